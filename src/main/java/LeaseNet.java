@@ -657,8 +657,8 @@ public final class LeaseNet {
         int freeAddresses(int now) {
             int free = 0;
             for (int s = 0; s < SUBNETS; s++) {
-                for (int a = lows[s]; a <= highs[s]; a++) {
-                    if (inPool(s, a) && records.isFree(a, now)) {
+                for (int a = lows[s]; leases[s] != 0 && a <= highs[s]; a++) {
+                    if (records.isFree(a, now)) {
                         free++;
                     }
                 }
