@@ -28,20 +28,6 @@ public final class ServerTest {
         return x;
     }
 
-    private static void ticks(LeaseNet x, int n) {
-        for (int t = 0; t < n; t++) {
-            x.tick();
-        }
-    }
-
-    private static Msg discover(int xid, int client) {
-        return Msg.toServer(Msg.DISCOVER, xid, client);
-    }
-
-    private static Msg request(int xid, int client) {
-        return Msg.toServer(Msg.REQUEST, xid, client);
-    }
-
     private static Msg offer(int xid, int client, int address, int lease) {
         return Msg.toClient(Msg.OFFER, xid, client).yiaddr(address).lease(lease).server(1).end();
     }
@@ -69,249 +55,237 @@ public final class ServerTest {
         asks(when, x, asked, 0, null);
     }
 
-    /** The client gets the address leased, by an offer and a request. */
-    private static void lease(LeaseNet x, int xid, int client, int address) {
-        int before = x.packets();
-        discover(xid, client).wanted(address).end().bring(x, 16);
-        request(xid, client).wanted(address).server(1).end().bring(x, 16);
-        Check.same("it is leased", x.record(address, 0), 2);
-        Check.same("to this client", x.record(address, 1), client);
-        while (x.packets() > before) {
-            x.drop(before);
-        }
-    }
-
     private static void subnets() {
         LeaseNet x = new LeaseNet();
         for (int s = 0; s < 4; s++) {
             x.pool(s, 10 * s + 2, 10 * s + 9, 20 + s);
         }
-        asks("both 0", x, discover(1, 3), 3, offer(1, 3, 2, 20));
-        asks("giaddr 257", x, discover(1, 3).giaddr(257), 13, offer(1, 3, 268, 21).giaddr(257));
-        asks("giaddr 767", x, discover(1, 3).giaddr(767), 14, offer(1, 3, 534, 22).giaddr(767));
-        asks("giaddr 768", x, discover(1, 3).giaddr(768), 15, offer(1, 3, 800, 23).giaddr(768));
-        asks("giaddr of subnet 0", x, discover(1, 4).giaddr(5), 4, offer(1, 4, 3, 20).giaddr(5));
-        asks("giaddr of subnet 0 again", x, discover(1, 4).giaddr(255), 4, offer(1, 4, 3, 20).giaddr(255));
-        asks("ciaddr", x, discover(1, 5).ciaddr(512), 5, offer(1, 5, 534, 22).yiaddr(535));
-        asks("giaddr before ciaddr", x, discover(1, 5).ciaddr(512).giaddr(300), 13,
+        asks("both 0", x, Scene.discover(1, 3), 3, offer(1, 3, 2, 20));
+        asks("giaddr 257", x, Scene.discover(1, 3).giaddr(257), 13, offer(1, 3, 268, 21).giaddr(257));
+        asks("giaddr 767", x, Scene.discover(1, 3).giaddr(767), 14, offer(1, 3, 534, 22).giaddr(767));
+        asks("giaddr 768", x, Scene.discover(1, 3).giaddr(768), 15, offer(1, 3, 800, 23).giaddr(768));
+        asks("giaddr of subnet 0", x, Scene.discover(1, 4).giaddr(5), 4, offer(1, 4, 3, 20).giaddr(5));
+        asks("giaddr of subnet 0 again", x, Scene.discover(1, 4).giaddr(255), 4, offer(1, 4, 3, 20).giaddr(255));
+        asks("ciaddr", x, Scene.discover(1, 5).ciaddr(512), 5, offer(1, 5, 534, 22).yiaddr(535));
+        asks("giaddr before ciaddr", x, Scene.discover(1, 5).ciaddr(512).giaddr(300), 13,
                 offer(1, 5, 269, 21).giaddr(300));
-        asks("hops are not answered", x, discover(1, 5).hops(9), 5, offer(1, 5, 4, 20));
+        asks("hops are not answered", x, Scene.discover(1, 5).hops(9), 5, offer(1, 5, 4, 20));
         int[] none = {1024, 1025, -1, -256, Integer.MIN_VALUE, Integer.MAX_VALUE};
         for (int a : none) {
-            silent("giaddr " + a, x, discover(9, 6).giaddr(a));
-            silent("ciaddr " + a, x, discover(9, 6).ciaddr(a));
-            silent("giaddr " + a + " with ciaddr", x, discover(9, 6).giaddr(a).ciaddr(5));
+            silent("giaddr " + a, x, Scene.discover(9, 6).giaddr(a));
+            silent("ciaddr " + a, x, Scene.discover(9, 6).ciaddr(a));
+            silent("giaddr " + a + " with ciaddr", x, Scene.discover(9, 6).giaddr(a).ciaddr(5));
         }
-        asks("their xid was not looked at", x, discover(8, 6), 6, offer(8, 6, 5, 20));
+        asks("their xid was not looked at", x, Scene.discover(8, 6), 6, offer(8, 6, 5, 20));
     }
 
     private static void notLookedAt() {
         LeaseNet x = withPool(2, 9, 16);
-        silent("no client 12", x, discover(1, 12));
-        silent("no client 255", x, discover(1, 255));
-        silent("no pool", x, discover(7, 0).giaddr(257));
+        silent("no client 12", x, Scene.discover(1, 12));
+        silent("no client 255", x, Scene.discover(1, 255));
+        silent("no pool", x, Scene.discover(7, 0).giaddr(257));
         Check.same("no records", x.count(2), 0);
         Msg.toServer(Msg.DISCOVER, 7, 0).bring(x, 16);
-        asks("a broken one's xid is not kept", x, discover(6, 0), 0, offer(6, 0, 2, 16));
+        asks("a broken one's xid is not kept", x, Scene.discover(6, 0), 0, offer(6, 0, 2, 16));
         x.pool(1, 2, 3, 16);
-        asks("client 11", x, discover(1, 11).giaddr(257), 13, offer(1, 11, 258, 16).giaddr(257));
+        asks("client 11", x, Scene.discover(1, 11).giaddr(257), 13, offer(1, 11, 258, 16).giaddr(257));
     }
 
     private static void xids() {
         LeaseNet x = withPool(2, 9, 16);
-        asks("any at first", x, discover(Integer.MIN_VALUE, 0), 0, offer(Integer.MIN_VALUE, 0, 2, 16));
-        asks("-1", x, discover(-1, 0), 0, offer(-1, 0, 2, 16));
-        asks("the same again", x, discover(-1, 0), 0, offer(-1, 0, 2, 16));
-        silent("less", x, discover(-2, 0));
-        asks("as an int", x, discover(3, 0), 0, offer(3, 0, 2, 16));
-        silent("less than 3", x, request(2, 0).wanted(2).server(1));
-        silent("highest bit", x, request(0x80000004, 0).wanted(2).server(1));
-        asks("each client has its own", x, discover(1, 1), 1, offer(1, 1, 3, 16));
+        asks("any at first", x, Scene.discover(Integer.MIN_VALUE, 0), 0, offer(Integer.MIN_VALUE, 0, 2, 16));
+        asks("-1", x, Scene.discover(-1, 0), 0, offer(-1, 0, 2, 16));
+        asks("the same again", x, Scene.discover(-1, 0), 0, offer(-1, 0, 2, 16));
+        silent("less", x, Scene.discover(-2, 0));
+        asks("as an int", x, Scene.discover(3, 0), 0, offer(3, 0, 2, 16));
+        silent("less than 3", x, Scene.request(2, 0).wanted(2).server(1));
+        silent("highest bit", x, Scene.request(0x80000004, 0).wanted(2).server(1));
+        asks("each client has its own", x, Scene.discover(1, 1), 1, offer(1, 1, 3, 16));
         silent("one of no type", x, Msg.head(1, 10, 0));
-        silent("is looked at", x, discover(9, 0));
+        silent("is looked at", x, Scene.discover(9, 0));
         silent("one of another type", x, Msg.toServer(200, 12, 0));
-        silent("is looked at too", x, discover(11, 0));
+        silent("is looked at too", x, Scene.discover(11, 0));
         Msg.toServer(Msg.DISCOVER, 20, 0).end().inject(x, 16);
         x.down(true);
         x.carry(0);
         x.down(false);
-        asks("not while down", x, discover(12, 0), 0, offer(12, 0, 2, 16));
+        asks("not while down", x, Scene.discover(12, 0), 0, offer(12, 0, 2, 16));
     }
 
     private static void discoverOwn() {
         LeaseNet x = withPool(2, 4, 16);
-        asks("the least", x, discover(1, 7), 7, offer(1, 7, 2, 16));
+        asks("the least", x, Scene.discover(1, 7), 7, offer(1, 7, 2, 16));
         Check.record("offered", x, 2, 1, 7, 8);
-        ticks(x, 3);
-        asks("its own, whatever is wanted", x, discover(2, 7).wanted(4), 7, offer(2, 7, 2, 16));
+        Scene.ticks(x, 3);
+        asks("its own, whatever is wanted", x, Scene.discover(2, 7).wanted(4), 7, offer(2, 7, 2, 16));
         Check.record("offered anew", x, 2, 1, 7, 11);
-        ticks(x, 20);
-        asks("another takes one without record", x, discover(1, 1), 1, offer(1, 1, 3, 16));
-        asks("its own, though free", x, discover(3, 7).wanted(4), 7, offer(3, 7, 2, 16));
+        Scene.ticks(x, 20);
+        asks("another takes one without record", x, Scene.discover(1, 1), 1, offer(1, 1, 3, 16));
+        asks("its own, though free", x, Scene.discover(3, 7).wanted(4), 7, offer(3, 7, 2, 16));
         Check.record("offered once more", x, 2, 1, 7, 31);
         Check.same("two records", x.count(2), 2);
         x.pool(0, 3, 4, 30);
-        asks("its own is out of the pool", x, discover(4, 7), 7, offer(4, 7, 4, 30));
+        asks("its own is out of the pool", x, Scene.discover(4, 7), 7, offer(4, 7, 4, 30));
         x.pool(0, 2, 4, 30);
-        asks("the least of two", x, discover(5, 7), 7, offer(5, 7, 2, 30));
+        asks("the least of two", x, Scene.discover(5, 7), 7, offer(5, 7, 2, 30));
         Check.record("the other stays", x, 4, 1, 7, 31);
     }
 
     private static void discoverWanted() {
         LeaseNet x = withPool(5, 8, 16);
-        asks("wanted", x, discover(1, 0).wanted(7), 0, offer(1, 0, 7, 16));
-        asks("not free", x, discover(1, 1).wanted(7), 1, offer(1, 1, 5, 16));
-        asks("below the pool", x, discover(1, 2).wanted(4), 2, offer(1, 2, 6, 16));
-        asks("above the pool", x, discover(1, 3).wanted(9), 3, offer(1, 3, 8, 16));
-        silent("none is free", x, discover(1, 4).wanted(8));
+        asks("wanted", x, Scene.discover(1, 0).wanted(7), 0, offer(1, 0, 7, 16));
+        asks("not free", x, Scene.discover(1, 1).wanted(7), 1, offer(1, 1, 5, 16));
+        asks("below the pool", x, Scene.discover(1, 2).wanted(4), 2, offer(1, 2, 6, 16));
+        asks("above the pool", x, Scene.discover(1, 3).wanted(9), 3, offer(1, 3, 8, 16));
+        silent("none is free", x, Scene.discover(1, 4).wanted(8));
         Check.same("all are taken", x.count(4), 0);
-        ticks(x, 7);
-        silent("not yet free", x, discover(1, 4).wanted(8));
+        Scene.ticks(x, 7);
+        silent("not yet free", x, Scene.discover(1, 4).wanted(8));
         x.tick();
-        asks("wanted, though with a record", x, discover(1, 4).wanted(8), 4, offer(1, 4, 8, 16));
+        asks("wanted, though with a record", x, Scene.discover(1, 4).wanted(8), 4, offer(1, 4, 8, 16));
         Check.record("it is the other's now", x, 8, 1, 4, 16);
         int[] odd = {-1, 1024, 8 + 256, Integer.MIN_VALUE, Integer.MAX_VALUE};
         for (int w : odd) {
-            asks("wanted " + w, x, discover(1, 9).wanted(w), 9, offer(1, 9, 5, 16));
+            asks("wanted " + w, x, Scene.discover(1, 9).wanted(w), 9, offer(1, 9, 5, 16));
         }
     }
 
     private static void discoverOldest() {
         LeaseNet x = withPool(2, 5, 16);
-        asks("4 at 0", x, discover(1, 0).wanted(4), 0, offer(1, 0, 4, 16));
+        asks("4 at 0", x, Scene.discover(1, 0).wanted(4), 0, offer(1, 0, 4, 16));
         x.tick();
-        asks("3 at 1", x, discover(1, 1).wanted(3), 1, offer(1, 1, 3, 16));
-        asks("2 at 1", x, discover(1, 2).wanted(2), 2, offer(1, 2, 2, 16));
-        ticks(x, 20);
-        asks("one without record comes first", x, discover(1, 3), 3, offer(1, 3, 5, 16));
-        asks("then the oldest", x, discover(1, 4), 4, offer(1, 4, 4, 16));
-        asks("of several the least", x, discover(1, 5), 5, offer(1, 5, 2, 16));
-        asks("and the next", x, discover(1, 6), 6, offer(1, 6, 3, 16));
-        silent("and none", x, discover(1, 8));
+        asks("3 at 1", x, Scene.discover(1, 1).wanted(3), 1, offer(1, 1, 3, 16));
+        asks("2 at 1", x, Scene.discover(1, 2).wanted(2), 2, offer(1, 2, 2, 16));
+        Scene.ticks(x, 20);
+        asks("one without record comes first", x, Scene.discover(1, 3), 3, offer(1, 3, 5, 16));
+        asks("then the oldest", x, Scene.discover(1, 4), 4, offer(1, 4, 4, 16));
+        asks("of several the least", x, Scene.discover(1, 5), 5, offer(1, 5, 2, 16));
+        asks("and the next", x, Scene.discover(1, 6), 6, offer(1, 6, 3, 16));
+        silent("and none", x, Scene.discover(1, 8));
         Check.same("four records", x.count(2), 4);
         silent("declined", x, Msg.toServer(Msg.DECLINE, 2, 4).wanted(4));
-        ticks(x, 50);
-        asks("a declined one is not free", x, discover(1, 8).wanted(4), 8, offer(1, 8, 2, 16));
-        ticks(x, 49);
-        asks("nor one tick before", x, discover(1, 9).wanted(4), 9, offer(1, 9, 3, 16));
+        Scene.ticks(x, 50);
+        asks("a declined one is not free", x, Scene.discover(1, 8).wanted(4), 8, offer(1, 8, 2, 16));
+        Scene.ticks(x, 49);
+        asks("nor one tick before", x, Scene.discover(1, 9).wanted(4), 9, offer(1, 9, 3, 16));
         x.tick();
-        asks("but then", x, discover(1, 10).wanted(4), 10, offer(1, 10, 4, 16));
+        asks("but then", x, Scene.discover(1, 10).wanted(4), 10, offer(1, 10, 4, 16));
     }
 
     private static void discoverLast() {
         LeaseNet x = withPool(2, 3, 16);
-        lease(x, 1, 0, 2);
+        Scene.lease(x, 1, 0, 2);
         silent("released at time 0", x, Msg.toServer(Msg.RELEASE, 1, 0).ciaddr(2));
         Check.record("released at time 0", x, 2, 2, 0, 0);
-        asks("the last has no record", x, discover(1, 1), 1, offer(1, 1, 3, 16));
-        asks("the other is the oldest", x, discover(1, 2), 2, offer(1, 2, 2, 16));
+        asks("the last has no record", x, Scene.discover(1, 1), 1, offer(1, 1, 3, 16));
+        asks("the other is the oldest", x, Scene.discover(1, 2), 2, offer(1, 2, 2, 16));
         x.tick();
-        asks("offered anew", x, discover(2, 2), 2, offer(2, 2, 2, 16));
-        ticks(x, 20);
-        asks("the last is the oldest", x, discover(1, 4), 4, offer(1, 4, 3, 16));
+        asks("offered anew", x, Scene.discover(2, 2), 2, offer(2, 2, 2, 16));
+        Scene.ticks(x, 20);
+        asks("the last is the oldest", x, Scene.discover(1, 4), 4, offer(1, 4, 3, 16));
     }
 
     private static void discoverLeased() {
         LeaseNet x = withPool(2, 3, 16);
-        lease(x, 1, 0, 2);
-        ticks(x, 15);
-        asks("leased still", x, discover(2, 0), 0, offer(2, 0, 2, 16));
+        Scene.lease(x, 1, 0, 2);
+        Scene.ticks(x, 15);
+        asks("leased still", x, Scene.discover(2, 0), 0, offer(2, 0, 2, 16));
         Check.record("it stays leased", x, 2, 2, 0, 16);
         x.tick();
-        asks("not any more", x, discover(3, 0), 0, offer(3, 0, 2, 16));
+        asks("not any more", x, Scene.discover(3, 0), 0, offer(3, 0, 2, 16));
         Check.record("it is offered", x, 2, 1, 0, 24);
     }
 
     private static void requestOfOffer() {
         LeaseNet x = withPool(2, 4, 16);
-        asks("offer", x, discover(1, 0), 0, offer(1, 0, 2, 16));
-        asks("offer to 1", x, discover(1, 1), 1, offer(1, 1, 3, 16));
-        ticks(x, 5);
-        asks("another's", x, request(2, 0).wanted(3).server(1), 0, nak(2, 0));
+        asks("offer", x, Scene.discover(1, 0), 0, offer(1, 0, 2, 16));
+        asks("offer to 1", x, Scene.discover(1, 1), 1, offer(1, 1, 3, 16));
+        Scene.ticks(x, 5);
+        asks("another's", x, Scene.request(2, 0).wanted(3).server(1), 0, nak(2, 0));
         Check.record("it is untouched", x, 3, 1, 1, 8);
-        asks("one without record", x, request(2, 0).wanted(4).server(1), 0, nak(2, 0));
-        asks("one out of the pool", x, request(2, 0).wanted(5).server(1), 0, nak(2, 0));
-        asks("none wanted", x, request(2, 0).server(1), 0, nak(2, 0));
-        asks("wanted -1", x, request(2, 0).wanted(-1).server(1), 0, nak(2, 0));
-        asks("ciaddr does not count", x, request(2, 0).ciaddr(2).server(1), 0, nak(2, 0));
-        asks("its own", x, request(2, 0).wanted(2).server(1), 0, ack(2, 0, 2, 16));
+        asks("one without record", x, Scene.request(2, 0).wanted(4).server(1), 0, nak(2, 0));
+        asks("one out of the pool", x, Scene.request(2, 0).wanted(5).server(1), 0, nak(2, 0));
+        asks("none wanted", x, Scene.request(2, 0).server(1), 0, nak(2, 0));
+        asks("wanted -1", x, Scene.request(2, 0).wanted(-1).server(1), 0, nak(2, 0));
+        asks("ciaddr does not count", x, Scene.request(2, 0).ciaddr(2).server(1), 0, nak(2, 0));
+        asks("its own", x, Scene.request(2, 0).wanted(2).server(1), 0, ack(2, 0, 2, 16));
         Check.record("leased", x, 2, 2, 0, 21);
-        ticks(x, 2);
-        asks("once more", x, request(2, 0).wanted(2).server(1), 0, ack(2, 0, 2, 16));
+        Scene.ticks(x, 2);
+        asks("once more", x, Scene.request(2, 0).wanted(2).server(1), 0, ack(2, 0, 2, 16));
         Check.record("leased for longer", x, 2, 2, 0, 23);
         x.tick();
-        asks("an offer that is over", x, request(2, 1).wanted(3).server(1), 1, nak(2, 1));
+        asks("an offer that is over", x, Scene.request(2, 1).wanted(3).server(1), 1, nak(2, 1));
         Check.record("it stays as it was", x, 3, 1, 1, 8);
         x.pool(0, 3, 4, 16);
-        asks("its own, but of no pool", x, request(3, 0).wanted(2).server(1), 0, nak(3, 0));
+        asks("its own, but of no pool", x, Scene.request(3, 0).wanted(2).server(1), 0, nak(3, 0));
         x.pool(1, 2, 4, 16);
-        asks("a NAK goes by the relay", x, request(3, 0).giaddr(257).wanted(2).server(1), 13,
+        asks("a NAK goes by the relay", x, Scene.request(3, 0).giaddr(257).wanted(2).server(1), 13,
                 nak(3, 0).giaddr(257));
     }
 
     private static void requestKeepsLonger() {
         LeaseNet x = withPool(2, 4, 100);
-        lease(x, 1, 0, 2);
+        Scene.lease(x, 1, 0, 2);
         x.pool(0, 2, 4, 8);
-        asks("a shorter lease", x, request(2, 0).wanted(2).server(1), 0, ack(2, 0, 2, 8));
+        asks("a shorter lease", x, Scene.request(2, 0).wanted(2).server(1), 0, ack(2, 0, 2, 8));
         Check.record("does not cut the longer one", x, 2, 2, 0, 100);
-        ticks(x, 92);
-        asks("as long", x, request(3, 0).ciaddr(2), 0, ack(3, 0, 2, 8));
+        Scene.ticks(x, 92);
+        asks("as long", x, Scene.request(3, 0).ciaddr(2), 0, ack(3, 0, 2, 8));
         Check.record("is the same", x, 2, 2, 0, 100);
         x.tick();
-        asks("longer", x, request(4, 0).ciaddr(2), 0, ack(4, 0, 2, 8));
+        asks("longer", x, Scene.request(4, 0).ciaddr(2), 0, ack(4, 0, 2, 8));
         Check.record("is longer", x, 2, 2, 0, 101);
     }
 
     private static void requestOfOther() {
         LeaseNet x = withPool(2, 4, 16);
-        asks("offer", x, discover(1, 0), 0, offer(1, 0, 2, 16));
-        asks("offer to 1", x, discover(1, 1), 1, offer(1, 1, 3, 16));
-        silent("another server", x, request(2, 0).wanted(3).server(2));
+        asks("offer", x, Scene.discover(1, 0), 0, offer(1, 0, 2, 16));
+        asks("offer to 1", x, Scene.discover(1, 1), 1, offer(1, 1, 3, 16));
+        silent("another server", x, Scene.request(2, 0).wanted(3).server(2));
         Check.record("the offer is gone", x, 2, 0, -1, 0);
         Check.record("the other's is not", x, 3, 1, 1, 8);
         Check.same("one record", x.count(2), 1);
-        silent("another server again", x, request(2, 0).wanted(3).server(-1));
-        ticks(x, 9);
-        silent("an offer that is over", x, request(2, 1).server(1 << 24));
+        silent("another server again", x, Scene.request(2, 0).wanted(3).server(-1));
+        Scene.ticks(x, 9);
+        silent("an offer that is over", x, Scene.request(2, 1).server(1 << 24));
         Check.same("is gone too", x.count(2), 0);
-        lease(x, 3, 0, 2);
-        silent("a lease", x, request(4, 0).server(257));
+        Scene.lease(x, 3, 0, 2);
+        silent("a lease", x, Scene.request(4, 0).server(257));
         Check.record("is not gone", x, 2, 2, 0, 25);
         x.pool(0, 3, 4, 16);
-        asks("a second one", x, discover(5, 0), 0, offer(5, 0, 3, 16));
+        asks("a second one", x, Scene.discover(5, 0), 0, offer(5, 0, 3, 16));
         x.pool(0, 2, 4, 16);
-        silent("the least is leased", x, request(6, 0).server(9));
+        silent("the least is leased", x, Scene.request(6, 0).server(9));
         Check.record("so the second stays", x, 3, 1, 0, 17);
         x.pool(0, 3, 4, 16);
-        silent("the least of the pool", x, request(7, 0).server(9));
+        silent("the least of the pool", x, Scene.request(7, 0).server(9));
         Check.record("goes", x, 3, 0, -1, 0);
     }
 
     private static void requestWithoutServer() {
         LeaseNet x = withPool(2, 5, 16);
-        lease(x, 1, 0, 2);
-        lease(x, 1, 1, 3);
-        ticks(x, 4);
-        asks("ciaddr", x, request(2, 0).ciaddr(2), 0, ack(2, 0, 2, 16));
+        Scene.lease(x, 1, 0, 2);
+        Scene.lease(x, 1, 1, 3);
+        Scene.ticks(x, 4);
+        asks("ciaddr", x, Scene.request(2, 0).ciaddr(2), 0, ack(2, 0, 2, 16));
         Check.record("ciaddr", x, 2, 2, 0, 20);
         x.tick();
-        asks("wanted", x, request(2, 0).wanted(2), 0, ack(2, 0, 2, 16));
+        asks("wanted", x, Scene.request(2, 0).wanted(2), 0, ack(2, 0, 2, 16));
         Check.record("wanted", x, 2, 2, 0, 21);
-        asks("a server that is 0", x, request(2, 0).wanted(2).server(0), 0, ack(2, 0, 2, 16));
-        asks("ciaddr before wanted", x, request(2, 0).ciaddr(3).wanted(2), 0, nak(2, 0));
-        asks("another's", x, request(2, 0).wanted(3), 0, nak(2, 0));
-        silent("without a record", x, request(2, 0).wanted(4));
+        asks("a server that is 0", x, Scene.request(2, 0).wanted(2).server(0), 0, ack(2, 0, 2, 16));
+        asks("ciaddr before wanted", x, Scene.request(2, 0).ciaddr(3).wanted(2), 0, nak(2, 0));
+        asks("another's", x, Scene.request(2, 0).wanted(3), 0, nak(2, 0));
+        silent("without a record", x, Scene.request(2, 0).wanted(4));
         Check.record("has none then", x, 4, 0, -1, 0);
-        asks("not in the pool", x, request(2, 0).wanted(6), 0, nak(2, 0));
-        asks("none at all", x, request(2, 0), 0, nak(2, 0));
-        asks("not in the pool of its subnet", x, request(2, 0).giaddr(1).ciaddr(258), 0, nak(2, 0).giaddr(1));
-        asks("offer", x, discover(2, 5), 5, offer(2, 5, 4, 16));
-        asks("an offer becomes a lease", x, request(2, 5).ciaddr(4), 5, ack(2, 5, 4, 16));
+        asks("not in the pool", x, Scene.request(2, 0).wanted(6), 0, nak(2, 0));
+        asks("none at all", x, Scene.request(2, 0), 0, nak(2, 0));
+        asks("not in the pool of its subnet", x, Scene.request(2, 0).giaddr(1).ciaddr(258), 0, nak(2, 0).giaddr(1));
+        asks("offer", x, Scene.discover(2, 5), 5, offer(2, 5, 4, 16));
+        asks("an offer becomes a lease", x, Scene.request(2, 5).ciaddr(4), 5, ack(2, 5, 4, 16));
         Check.record("an offer becomes a lease", x, 4, 2, 5, 21);
         x.pool(1, 2, 2, 16);
-        asks("by the relay", x, request(2, 0).giaddr(257).ciaddr(2), 13, nak(2, 0).giaddr(257));
-        silent("no pool of ciaddr's subnet", x, request(2, 0).ciaddr(514));
+        asks("by the relay", x, Scene.request(2, 0).giaddr(257).ciaddr(2), 13, nak(2, 0).giaddr(257));
+        silent("no pool of ciaddr's subnet", x, Scene.request(2, 0).ciaddr(514));
     }
 
     /** What is made has nothing left of what was made before it. */
@@ -322,45 +296,45 @@ public final class ServerTest {
         x.run(2);
         Check.packet("offer", x, 0, 13, offer(1, 3, 266, 40).giaddr(257));
         x.run(2);
-        Check.packet("request", x, 0, 13, request(2, 3).wanted(266).server(1).end());
+        Check.packet("request", x, 0, 13, Scene.request(2, 3).wanted(266).server(1).end());
         x.run(2);
         Check.packet("ack", x, 0, 13, ack(2, 3, 266, 40).giaddr(257));
         x.run(2);
-        ticks(x, 20);
-        Check.packet("renewal", x, 0, 16, request(3, 3).ciaddr(266).end());
+        Scene.ticks(x, 20);
+        Check.packet("renewal", x, 0, 16, Scene.request(3, 3).ciaddr(266).end());
         x.run(1);
         Check.packet("its ack", x, 0, 3, ack(3, 3, 266, 40));
         x.run(1);
         x.off(3);
         x.pool(1, 10, 10, 40);
         x.join(3, 0);
-        Check.packet("again", x, 0, 16, request(4, 3).wanted(266).end());
+        Check.packet("again", x, 0, 16, Scene.request(4, 3).wanted(266).end());
         x.run(1);
         Check.same("subnet 0 has no pool", x.packets(), 0);
         x.pool(0, 2, 2, 8);
-        ticks(x, 4);
+        Scene.ticks(x, 4);
         x.run(1);
         Check.packet("nak", x, 0, 3, nak(5, 3));
     }
 
     private static void requestExpired() {
         LeaseNet x = withPool(2, 5, 16);
-        lease(x, 1, 0, 2);
-        lease(x, 1, 1, 3);
-        asks("offer", x, discover(1, 2), 2, offer(1, 2, 4, 16));
+        Scene.lease(x, 1, 0, 2);
+        Scene.lease(x, 1, 1, 3);
+        asks("offer", x, Scene.discover(1, 2), 2, offer(1, 2, 4, 16));
         silent("declined", x, Msg.toServer(Msg.DECLINE, 2, 2).wanted(4));
-        ticks(x, 200);
-        asks("its own that is over", x, request(2, 0).ciaddr(2), 0, ack(2, 0, 2, 16));
+        Scene.ticks(x, 200);
+        asks("its own that is over", x, Scene.request(2, 0).ciaddr(2), 0, ack(2, 0, 2, 16));
         Check.record("is leased anew", x, 2, 2, 0, 216);
-        asks("with the server named it is not", x, request(2, 1).wanted(3).server(1), 1, nak(2, 1));
-        asks("another's that is over", x, request(3, 0).ciaddr(3), 0, nak(3, 0));
-        asks("one that was declined", x, request(3, 2).wanted(4), 2, nak(3, 2));
+        asks("with the server named it is not", x, Scene.request(2, 1).wanted(3).server(1), 1, nak(2, 1));
+        asks("another's that is over", x, Scene.request(3, 0).ciaddr(3), 0, nak(3, 0));
+        asks("one that was declined", x, Scene.request(3, 2).wanted(4), 2, nak(3, 2));
     }
 
     private static void decline() {
         LeaseNet x = withPool(2, 5, 16);
-        lease(x, 1, 0, 2);
-        asks("offer", x, discover(1, 1), 1, offer(1, 1, 3, 16));
+        Scene.lease(x, 1, 0, 2);
+        asks("offer", x, Scene.discover(1, 1), 1, offer(1, 1, 3, 16));
         x.tick();
         silent("another's", x, Msg.toServer(Msg.DECLINE, 2, 1).wanted(2));
         Check.record("another's", x, 2, 2, 0, 16);
@@ -379,18 +353,18 @@ public final class ServerTest {
         }
         Check.same("two records", x.count(2), 2);
         Check.same("two are free", x.count(4), 2);
-        lease(x, 4, 0, 5);
+        Scene.lease(x, 4, 0, 5);
         x.pool(0, 2, 3, 16);
-        ticks(x, 30);
+        Scene.ticks(x, 30);
         silent("out of the pool, and over", x, Msg.toServer(Msg.DECLINE, 5, 0).wanted(5));
         Check.record("out of the pool, and over", x, 5, 3, -1, 132);
     }
 
     private static void release() {
         LeaseNet x = withPool(2, 5, 16);
-        lease(x, 1, 0, 2);
-        asks("offer", x, discover(1, 1), 1, offer(1, 1, 3, 16));
-        ticks(x, 3);
+        Scene.lease(x, 1, 0, 2);
+        asks("offer", x, Scene.discover(1, 1), 1, offer(1, 1, 3, 16));
+        Scene.ticks(x, 3);
         silent("an offer", x, Msg.toServer(Msg.RELEASE, 1, 1).ciaddr(3));
         Check.record("an offer", x, 3, 1, 1, 8);
         silent("another's", x, Msg.toServer(Msg.RELEASE, 1, 1).ciaddr(2));
@@ -402,15 +376,15 @@ public final class ServerTest {
         silent("a lease", x, Msg.toServer(Msg.RELEASE, 1, 0).ciaddr(2));
         Check.record("a lease", x, 2, 2, 0, 3);
         Check.same("it is free", x.count(4), 3);
-        asks("it is not to be had with the server", x, request(1, 0).wanted(2).server(1), 0, nak(1, 0));
-        ticks(x, 2);
+        asks("it is not to be had with the server", x, Scene.request(1, 0).wanted(2).server(1), 0, nak(1, 0));
+        Scene.ticks(x, 2);
         silent("once more", x, Msg.toServer(Msg.RELEASE, 1, 0).ciaddr(2));
         Check.record("once more", x, 2, 2, 0, 5);
     }
 
     private static void otherTypes() {
         LeaseNet x = withPool(2, 5, 16);
-        lease(x, 1, 0, 2);
+        Scene.lease(x, 1, 0, 2);
         String before = Look.all(x);
         int[] others = {0, 2, 5, 6, 8, 128, 255};
         for (int type : others) {

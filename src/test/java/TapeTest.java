@@ -69,7 +69,8 @@ public final class TapeTest {
                 1, 0, 1, 0, 0, 0, 1, 3, 9, 0, 0);
         sees("others do not count", Msg.head(1, 1, 1).raw(52, 1, 9, 55, 0, 254, 6, 53, 1, 7, 50, 4, 255).raw(53, 1, 1)
                 .end(), 1, 0, 1, 0, 0, 0, 1, 1, 0, 0, 0);
-        sees("behind the end", Msg.head(1, 1, 1).raw(53, 1, 1).end().raw(53, 1, 2, 54, 9), 1, 0, 1, 0, 0, 0, 1, 1, 0, 0, 0);
+        sees("behind the end", Msg.head(1, 1, 1).raw(53, 1, 1).end().raw(53, 1, 2, 54, 9),
+                1, 0, 1, 0, 0, 0, 1, 1, 0, 0, 0);
         sees("an end in the middle of another", Msg.head(1, 1, 1).raw(1, 1, 255, 53, 1, 7, 255),
                 1, 0, 1, 0, 0, 0, 1, 7, 0, 0, 0);
     }
