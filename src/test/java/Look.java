@@ -14,7 +14,8 @@ final class Look {
             }
         }
         for (int a = 1; a < 1024; a++) {
-            if (x.record(a, 0) != 0) {
+            // An address without record is left out, if it is as the document says, to keep the text short.
+            if (x.record(a, 0) != 0 || x.record(a, 1) != -1 || x.record(a, 2) != 0) {
                 seen.append(a).append(':').append(x.record(a, 0)).append(',').append(x.record(a, 1))
                         .append(',').append(x.record(a, 2)).append(' ');
             }

@@ -28,6 +28,7 @@ public final class ServerBoundsTest {
         wantedAtThePoolsBounds();
         leastWithARecordOfThisClient();
         leastWithoutARecord();
+        leastWithoutARecordAtTheEnd();
         leastTime();
         aFullPool();
         leasedUntilLaterThanNow();
@@ -395,6 +396,11 @@ public final class ServerBoundsTest {
         Scene.ticks(y, 30);
         asks("its own, over for long, before one without record", y, Scene.discover(2, 0), 0, offer(2, 0, 3, 16));
         Check.record("offered", y, 3, OFFERED, 0, 38);
+        LeaseNet z = withPool(2, 3, 16);
+        Scene.lease(z, 1, 0, 3);
+        silent("released at 0", z, release(1, 0, 3));
+        Check.record("a record of time 0", z, 3, LEASED, 0, 0);
+        asks("is one too", z, Scene.discover(2, 0).wanted(2), 0, offer(2, 0, 3, 16));
     }
 
     private static void leastWithoutARecord() {
@@ -406,6 +412,15 @@ public final class ServerBoundsTest {
         Scene.ticks(x, 8);
         asks("4, the last without", x, Scene.discover(1, 2), 2, offer(1, 2, 4, 16));
         asks("then that of the least time", x, Scene.discover(1, 3), 3, offer(1, 3, 2, 16));
+    }
+
+    /** A time of 0 is no less than having no record. */
+    private static void leastWithoutARecordAtTheEnd() {
+        LeaseNet x = withPool(2, 3, 16);
+        Scene.lease(x, 1, 0, 2);
+        silent("released at 0", x, release(1, 0, 2));
+        asks("3, the last, for it has none", x, Scene.discover(1, 1), 1, offer(1, 1, 3, 16));
+        asks("then 2, of time 0", x, Scene.discover(1, 2), 2, offer(1, 2, 2, 16));
     }
 
     private static void leastTime() {
@@ -672,6 +687,16 @@ public final class ServerBoundsTest {
             silent("RELEASE at " + time, y, release(1, 0, 5));
             Check.record("RELEASE at " + time, y, 5, LEASED, 0, time);
         }
+        LeaseNet z = withPool(5, 5, 16);
+        Scene.lease(z, 1, 0, 5);
+        Scene.ticks(z, 3);
+        z.pool(0, 6, 9, 16);
+        silent("RELEASE of one that is of no pool any more", z, release(1, 0, 5));
+        Check.record("RELEASE of one that is of no pool any more", z, 5, LEASED, 0, 3);
+        z.tick();
+        z.pool(3, 2, 2, 16);
+        silent("by way of another subnet", z, release(1, 0, 5).giaddr(769));
+        Check.record("by way of another subnet", z, 5, LEASED, 0, 4);
     }
 
     private static void othersNothing() {
