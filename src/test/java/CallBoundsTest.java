@@ -30,7 +30,7 @@ public final class CallBoundsTest {
     }
 
     private static void promise1New() {
-        LeaseNet used = new LeaseNet();
+        Subject used = new Subject();
         String fresh = Look.all(used);
         used.pool(0, 2, 250, 8);
         used.join(0, 0);
@@ -39,7 +39,7 @@ public final class CallBoundsTest {
         used.down(true);
         used.type(1, 8);
         used.tick();
-        LeaseNet x = new LeaseNet();
+        Subject x = new Subject();
         Check.same("a second object is new", Look.all(x).equals(fresh), true);
         Check.same("its tape is empty", x.type(0, 8), true);
         for (int s = 0; s < 4; s++) {
@@ -52,7 +52,7 @@ public final class CallBoundsTest {
         int[][] good = {{0, 2, 2, 8}, {3, 250, 250, 10000}, {0, 2, 250, 8}, {3, 2, 250, 10000}, {1, 249, 250, 9},
             {2, 127, 128, 9999}};
         for (int[] p : good) {
-            LeaseNet x = new LeaseNet();
+            Subject x = new Subject();
             x.pool(p[0], p[1], p[2], p[3]);
             Check.same("free", x.count(4), p[2] - p[1] + 1);
             x.join(C, p[0]);
@@ -60,7 +60,7 @@ public final class CallBoundsTest {
             int first = 256 * p[0] + p[1];
             Check.client("its first address", x, C, 3, first, p[3], first, 2, 1, p[0]);
         }
-        LeaseNet all = new LeaseNet();
+        Subject all = new Subject();
         for (int s = 0; s < 4; s++) {
             all.pool(s, 2, 250, 8);
             Check.same("all of " + s, all.count(4), 249 * (s + 1));
@@ -68,7 +68,7 @@ public final class CallBoundsTest {
     }
 
     private static void promise2PoolFromNowOn() {
-        LeaseNet x = new LeaseNet();
+        Subject x = new Subject();
         x.pool(0, 2, 3, 16);
         x.join(C, 0);
         x.carry(0);
@@ -92,7 +92,7 @@ public final class CallBoundsTest {
     private static void promise3JoinEachClientAndSubnet() {
         for (int c = 0; c < 12; c++) {
             for (int s = 0; s < 4; s++) {
-                LeaseNet x = new LeaseNet();
+                Subject x = new Subject();
                 x.join(c, s);
                 Check.client("joined", x, c, 1, 0, 0, 0, 1, 1, s);
                 Check.packet("joined", x, 0, s == 0 ? 16 : 12 + s, Scene.discover(1, c).end());
@@ -108,7 +108,7 @@ public final class CallBoundsTest {
 
     private static void promise3JoinOnlyFromOff() {
         for (int state = 1; state < 8; state++) {
-            LeaseNet x = Scene.inState(state);
+            Subject x = Scene.inState(state);
             for (int s = 0; s < 4; s++) {
                 int subnet = s;
                 Check.fails("join in " + state, x, IllegalStateException.class, () -> x.join(C, subnet));
@@ -123,7 +123,7 @@ public final class CallBoundsTest {
 
     private static void promise4OffInEachState() {
         for (int state = 1; state < 8; state++) {
-            LeaseNet x = Scene.inState(state);
+            Subject x = Scene.inState(state);
             boolean has = uses(state) || state == 6;
             int xid = x.client(C, 4);
             x.off(C);
@@ -137,7 +137,7 @@ public final class CallBoundsTest {
 
     private static void promise5LeaveInEachState() {
         for (int state = 1; state < 8; state++) {
-            LeaseNet x = Scene.inState(state);
+            Subject x = Scene.inState(state);
             int xid = x.client(C, 4);
             x.leave(C);
             Check.same("packets from " + state, x.packets(), uses(state) ? 1 : 0);
@@ -151,7 +151,7 @@ public final class CallBoundsTest {
 
     private static void promise5LeaveThenJoin() {
         for (int state = 1; state < 8; state++) {
-            LeaseNet x = Scene.inState(state);
+            Subject x = Scene.inState(state);
             x.leave(C);
             Scene.clear(x);
             x.join(C, 0);
@@ -163,13 +163,13 @@ public final class CallBoundsTest {
     private static void promise6StrangeFirstAndLast() {
         int[] addresses = {1, 255, 256, 1023};
         for (int a : addresses) {
-            LeaseNet x = Scene.inState(2);
+            Subject x = Scene.inState(2);
             String before = Look.all(x);
             x.strange(a, true);
             Check.same("it shows nowhere by itself", Look.all(x).equals(before), true);
             Scene.acked(2, C, a, 40).bring(x, C);
             Check.same(a + " is strange", x.client(C, 0), 7);
-            LeaseNet y = Scene.inState(2);
+            Subject y = Scene.inState(2);
             y.strange(a, true);
             y.strange(a, false);
             y.strange(a, false);
@@ -179,7 +179,7 @@ public final class CallBoundsTest {
     }
 
     private static void promise7DownTwice() {
-        LeaseNet x = new LeaseNet();
+        Subject x = new Subject();
         x.down(false);
         Check.same("up", x.count(3), 1);
         x.down(true);
@@ -190,7 +190,7 @@ public final class CallBoundsTest {
     }
 
     private static void promise8TickTellsTheTime() {
-        LeaseNet x = new LeaseNet();
+        Subject x = new Subject();
         Check.same("0 at first", x.count(0), 0);
         for (int time = 1; time <= 250; time++) {
             Check.same("tick", x.tick(), time);
@@ -202,7 +202,7 @@ public final class CallBoundsTest {
 
     private static void promise12TwiceIsUnderWayStill() {
         for (int k = 0; k < 3; k++) {
-            LeaseNet x = new LeaseNet();
+            Subject x = new Subject();
             x.join(0, 1);
             x.join(1, 2);
             x.join(2, 3);
@@ -218,7 +218,7 @@ public final class CallBoundsTest {
 
     private static void promise13DropOfEach() {
         for (int k = 0; k < 3; k++) {
-            LeaseNet x = new LeaseNet();
+            Subject x = new Subject();
             x.pool(1, 2, 3, 8);
             x.join(0, 1);
             x.join(1, 2);
@@ -232,7 +232,7 @@ public final class CallBoundsTest {
     }
 
     private static void promise16ToldStays() {
-        LeaseNet x = new LeaseNet();
+        Subject x = new Subject();
         Msg m = Scene.request(7, 11).wanted(5).end();
         m.typeOn(x);
         int[] want = {1, 0, 7, 0, 0, 0, 11, 3, 5, 0, 0};
@@ -246,7 +246,7 @@ public final class CallBoundsTest {
     }
 
     private static void promise17InjectTakes() {
-        LeaseNet x = new LeaseNet();
+        Subject x = new Subject();
         x.type(5, 1);
         x.inject(16);
         Check.fails("the tape is empty", x, IllegalArgumentException.class, () -> x.inject(16));
@@ -266,7 +266,7 @@ public final class CallBoundsTest {
     }
 
     private static void promise19RecordFirstAndLast() {
-        LeaseNet x = new LeaseNet();
+        Subject x = new Subject();
         Check.record("the first", x, 1, 0, -1, 0);
         Check.record("the last", x, 1023, 0, -1, 0);
         x.pool(0, 2, 2, 8);
@@ -284,7 +284,7 @@ public final class CallBoundsTest {
     }
 
     private static void promise20Count() {
-        LeaseNet x = new LeaseNet();
+        Subject x = new Subject();
         x.pool(0, 2, 3, 8);
         x.pool(3, 2, 3, 8);
         Scene.lease(x, 1, 0, 2);

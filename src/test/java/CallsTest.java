@@ -15,8 +15,8 @@ public final class CallsTest {
         Check.end();
     }
 
-    private static LeaseNet bound(int client) {
-        LeaseNet x = new LeaseNet();
+    private static Subject bound(int client) {
+        Subject x = new Subject();
         x.pool(0, 2, 3, 16);
         x.join(client, 0);
         x.run(200);
@@ -24,7 +24,7 @@ public final class CallsTest {
     }
 
     private static void newObject() {
-        LeaseNet x = new LeaseNet();
+        Subject x = new Subject();
         for (int c = 0; c < 12; c++) {
             Check.client("new", x, c, 0, 0, 0, 0, 0, 0, 0);
         }
@@ -41,13 +41,13 @@ public final class CallsTest {
             Msg.toServer(Msg.DISCOVER, 1, 0).giaddr(256 * s).end().bring(x, 16);
         }
         Check.same("new: no pool answers", x.packets(), 0);
-        LeaseNet y = new LeaseNet();
+        Subject y = new Subject();
         y.join(0, 0);
         Check.same("objects do not share clients", x.client(0, 0), 0);
     }
 
     private static void pool() {
-        LeaseNet x = new LeaseNet();
+        Subject x = new Subject();
         x.pool(0, 2, 250, 8);
         Check.same("whole pool", x.count(4), 249);
         x.pool(3, 7, 7, 10000);
@@ -68,7 +68,7 @@ public final class CallsTest {
     }
 
     private static void poolRefuses() {
-        LeaseNet x = bound(0);
+        Subject x = bound(0);
         int[] none = {-1, 4, 5, Integer.MIN_VALUE, Integer.MAX_VALUE};
         for (int s : none) {
             Check.fails("pool of " + s, x, NoSuchElementException.class, () -> x.pool(s, 2, 3, 8));
@@ -86,7 +86,7 @@ public final class CallsTest {
     }
 
     private static void join() {
-        LeaseNet x = new LeaseNet();
+        Subject x = new Subject();
         x.join(11, 0);
         Check.packet("on subnet 0", x, 0, 16, Msg.toServer(Msg.DISCOVER, 1, 11).end());
         Check.client("on subnet 0", x, 11, 1, 0, 0, 0, 1, 1, 0);
@@ -109,7 +109,7 @@ public final class CallsTest {
     }
 
     private static void off() {
-        LeaseNet x = bound(4);
+        Subject x = bound(4);
         Check.client("bound", x, 4, 3, 2, 16, 2, 2, 1, 0);
         x.off(4);
         Check.client("off keeps the address", x, 4, 0, 2, 16, 0, 2, 1, 0);
@@ -127,7 +127,7 @@ public final class CallsTest {
     }
 
     private static void leave() {
-        LeaseNet x = bound(4);
+        Subject x = bound(4);
         x.tick();
         x.leave(4);
         Check.client("left", x, 4, 0, 0, 0, 0, 3, 1, 0);
@@ -139,13 +139,13 @@ public final class CallsTest {
         x.carry(0);
         Check.record("released", x, 2, 2, 4, 1);
 
-        LeaseNet y = new LeaseNet();
+        Subject y = new Subject();
         y.join(0, 0);
         y.leave(0);
         Check.same("without address nothing is sent", y.packets(), 1);
         Check.client("without address", y, 0, 0, 0, 0, 0, 1, 1, 0);
 
-        LeaseNet z = bound(4);
+        Subject z = bound(4);
         z.off(4);
         z.join(4, 0);
         Check.client("rebooting", z, 4, 6, 2, 16, 0, 3, 1, 0);
@@ -153,7 +153,7 @@ public final class CallsTest {
         Check.client("rebooting uses none, so it sends none", z, 4, 0, 0, 0, 0, 3, 1, 0);
         Check.same("rebooting: packets", z.packets(), 1);
 
-        LeaseNet far = new LeaseNet();
+        Subject far = new Subject();
         far.pool(2, 9, 9, 8);
         far.join(1, 2);
         far.run(200);
@@ -163,7 +163,7 @@ public final class CallsTest {
     }
 
     private static void strangeRefuses() {
-        LeaseNet x = new LeaseNet();
+        Subject x = new Subject();
         int[] bad = {0, -1, 1024, Integer.MIN_VALUE, Integer.MAX_VALUE};
         for (int a : bad) {
             Check.fails("strange " + a, x, IllegalArgumentException.class, () -> x.strange(a, true));
@@ -175,7 +175,7 @@ public final class CallsTest {
     }
 
     private static void down() {
-        LeaseNet x = new LeaseNet();
+        Subject x = new Subject();
         x.pool(0, 2, 3, 16);
         x.down(true);
         Check.same("down", x.count(3), 0);
@@ -197,7 +197,7 @@ public final class CallsTest {
     }
 
     private static void clientRefuses() {
-        LeaseNet x = bound(0);
+        Subject x = bound(0);
         int[] none = {-1, 12, Integer.MIN_VALUE, Integer.MAX_VALUE};
         for (int c : none) {
             Check.fails("client " + c, x, NoSuchElementException.class, () -> x.client(c, 0));

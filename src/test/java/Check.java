@@ -19,7 +19,7 @@ final class Check {
     }
 
     /** The call throws just this exception, and changes nothing that can be seen of the object. */
-    static void fails(String what, LeaseNet x, Class<? extends RuntimeException> kind, Runnable call) {
+    static void fails(String what, Subject x, Class<? extends RuntimeException> kind, Runnable call) {
         made++;
         String before = Look.all(x);
         RuntimeException thrown = null;
@@ -39,29 +39,33 @@ final class Check {
     }
 
     /** A client's state, address, end, used address, xid, try and subnet. */
-    static void client(String when, LeaseNet x, int client, int... want) {
+    static void client(String when, Subject x, int client, int... want) {
+        Look look = new Look(x);
         for (int what = 0; what < want.length; what++) {
-            same(when + ": client(" + client + ", " + what + ")", x.client(client, what), want[what]);
+            same(when + ": client(" + client + ", " + what + ")", look.client(client, what), want[what]);
         }
     }
 
     /** A record's state, client and time. */
-    static void record(String when, LeaseNet x, int address, int state, int client, int until) {
-        same(when + ": record(" + address + ", 0)", x.record(address, 0), state);
-        same(when + ": record(" + address + ", 1)", x.record(address, 1), client);
-        same(when + ": record(" + address + ", 2)", x.record(address, 2), until);
+    static void record(String when, Subject x, int address, int state, int client, int until) {
+        Look look = new Look(x);
+        same(when + ": record(" + address + ", 0)", look.record(address, 0), state);
+        same(when + ": record(" + address + ", 1)", look.record(address, 1), client);
+        same(when + ": record(" + address + ", 2)", look.record(address, 2), until);
     }
 
     /** Packet k goes to the place and has just these bytes. */
-    static void packet(String when, LeaseNet x, int k, int place, Msg want) {
-        if (k >= x.packets()) {
+    static void packet(String when, Subject x, int k, int place, Msg want) {
+        Look look = new Look(x);
+        if (k >= look.packets()) {
             same(when + ": there is packet " + k, false, true);
             return;
         }
-        same(when + ": place of packet " + k, x.packet(k, -1), place);
-        same(when + ": length of packet " + k, x.packet(k, -2), want.length());
-        for (int i = 0; i < Math.min(want.length(), x.packet(k, -2)); i++) {
-            same(when + ": byte " + i + " of packet " + k, x.packet(k, i), want.at(i));
+        int length = look.packet(k, -2);
+        same(when + ": place of packet " + k, look.packet(k, -1), place);
+        same(when + ": length of packet " + k, length, want.length());
+        for (int i = 0; i < Math.min(want.length(), length); i++) {
+            same(when + ": byte " + i + " of packet " + k, look.packet(k, i), want.at(i));
         }
     }
 

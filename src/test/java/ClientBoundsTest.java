@@ -40,36 +40,36 @@ public final class ClientBoundsTest {
         Check.end();
     }
 
-    private static void moved(String when, LeaseNet x, Msg m, boolean isMoved) {
+    private static void moved(String when, Subject x, Msg m, boolean isMoved) {
         String before = Look.all(x);
         m.bring(x, C);
         Check.same(when + " does something", !Look.all(x).equals(before), isMoved);
     }
 
-    private static int xid(LeaseNet x) {
+    private static int xid(Subject x) {
         return x.client(C, 4);
     }
 
+    /** DISCOVER, REQUEST and RELEASE by three calls, until the xid needs more than one byte. */
     private static void xid1AtFirstAnd1Greater() {
-        LeaseNet x = new LeaseNet();
-        Check.same("0 at first", xid(x), 0);
-        x.join(C, 0);
-        Check.same("1 for the first message", xid(x), 1);
-        Check.same("in the message too", x.packet(0, 5), 1);
-        for (int n = 2; n < 300; n++) {
-            x.leave(C);
-            Scene.clear(x);
+        Subject x = new Subject();
+        Check.client("0 at first", x, C, 0, 0, 0, 0, 0);
+        x.pool(0, 2, 2, 16);
+        for (int n = 1; n < 300; n += 3) {
             x.join(C, 0);
-            if (n == 127 || n == 128 || n == 255 || n == 256) {
-                Check.packet("xid " + n, x, 0, 16, Scene.discover(n, C).end());
-            }
-            Check.same("xid", xid(x), n);
+            Check.packet("DISCOVER, xid " + n, x, n == 1 ? 0 : 1, 16, Scene.discover(n, C).end());
+            Check.client("DISCOVER, xid " + n, x, C, SELECTING, 0, 0, 0, n);
+            x.run(200);
+            Check.client("REQUEST, xid " + (n + 1), x, C, BOUND, 2, 16, 2, n + 1);
+            x.leave(C);
+            Check.packet("RELEASE, xid " + (n + 2), x, 0, 16, Msg.toServer(Msg.RELEASE, n + 2, C).ciaddr(2).end());
+            Check.client("RELEASE, xid " + (n + 2), x, C, 0, 0, 0, 0, n + 2);
         }
     }
 
     private static void againWithAnEndLaterThanNow() {
         for (int time = 8; time <= 12; time++) {
-            LeaseNet x = Scene.bound(C, 0, 5, 10);
+            Subject x = Scene.bound(C, 0, 5, 10);
             x.off(C);
             Scene.ticks(x, time);
             Check.client("it keeps its address", x, C, 0, 5, 10, 0, 2, 1, 0);
@@ -79,7 +79,7 @@ public final class ClientBoundsTest {
             Check.packet("again at " + time, x, 0, 14,
                     has ? Scene.request(3, C).wanted(5).end() : Scene.discover(3, C).end());
         }
-        LeaseNet x = Scene.inState(WAITING);
+        Subject x = Scene.inState(WAITING);
         x.off(C);
         x.join(C, 0);
         Check.client("without address", x, C, SELECTING, 0, 0, 0, 4, 1, 0);
@@ -92,7 +92,7 @@ public final class ClientBoundsTest {
             moved("NAK for " + chaddr, Scene.inState(REQUESTING), Scene.naked(2, chaddr), chaddr == C);
         }
         for (int place = 0; place < 12; place++) {
-            LeaseNet x = Scene.inState(SELECTING);
+            Subject x = Scene.inState(SELECTING);
             Scene.offered(1, C, 5, 1).bring(x, place);
             Check.same("at place " + place, x.client(C, 0), place == C ? REQUESTING : SELECTING);
         }
@@ -105,7 +105,7 @@ public final class ClientBoundsTest {
             moved("ACK of " + n, Scene.inState(REQUESTING), Scene.acked(n, C, 5, 40), n == 2);
             moved("NAK of " + n, Scene.inState(REQUESTING), Scene.naked(n, C), n == 2);
         }
-        LeaseNet x = new LeaseNet();
+        Subject x = new Subject();
         moved("OFFER of 0 to one that has sent none", x, Scene.offered(0, C, 5, 1), false);
     }
 
@@ -118,11 +118,11 @@ public final class ClientBoundsTest {
 
     private static void offerInEachState() {
         for (int state = 0; state < 8; state++) {
-            LeaseNet x = Scene.inState(state);
+            Subject x = Scene.inState(state);
             moved("OFFER in " + state, x, Scene.offered(xid(x), C, 5, 1), state == SELECTING);
         }
         for (int subnet = 0; subnet < 4; subnet++) {
-            LeaseNet x = Scene.selecting(C, subnet);
+            Subject x = Scene.selecting(C, subnet);
             Scene.ticks(x, 4);
             Scene.clear(x);
             Scene.offered(2, C, 5, 9).bring(x, C);
@@ -136,7 +136,7 @@ public final class ClientBoundsTest {
         int[] numbers = {MIN, -1, 0, 1, 127, 128, 255, 256, 1023, 1024, MAX};
         for (int y : numbers) {
             for (int s : numbers) {
-                LeaseNet x = Scene.inState(SELECTING);
+                Subject x = Scene.inState(SELECTING);
                 moved("yiaddr " + y + ", server " + s, x, Scene.offered(1, C, y, s), y != 0 && s != 0);
                 if (y != 0 && s != 0) {
                     Check.packet("asked for", x, 0, 13, Scene.request(2, C).wanted(y).server(s).end());
@@ -153,7 +153,7 @@ public final class ClientBoundsTest {
 
     private static void ackInEachState() {
         for (int state = 0; state < 8; state++) {
-            LeaseNet x = Scene.inState(state);
+            Subject x = Scene.inState(state);
             int now = x.count(0);
             moved("ACK in " + state, x, Scene.acked(xid(x), C, 301, 80), awaits(state));
             if (awaits(state)) {
@@ -168,7 +168,7 @@ public final class ClientBoundsTest {
         for (int state = 2; state < 7; state++) {
             for (int y : numbers) {
                 if (awaits(state)) {
-                    LeaseNet x = Scene.inState(state);
+                    Subject x = Scene.inState(state);
                     moved("yiaddr " + y + " in " + state, x, Scene.acked(xid(x), C, y, 80), y != 0);
                     if (y != 0) {
                         Check.client("yiaddr " + y, x, C, BOUND, y, x.count(0) + 80, y);
@@ -183,7 +183,7 @@ public final class ClientBoundsTest {
         for (int state = 2; state < 7; state++) {
             for (int lease : leases) {
                 if (awaits(state)) {
-                    LeaseNet x = Scene.inState(state);
+                    Subject x = Scene.inState(state);
                     int end = x.count(0) + Math.min(lease, 10000);
                     moved("lease " + lease + " in " + state, x, Scene.acked(xid(x), C, 301, lease), lease > 0);
                     if (lease > 0) {
@@ -199,7 +199,7 @@ public final class ClientBoundsTest {
     private static void sentAndTheLeaseLaterThanNow() {
         for (int late = 0; late < 4; late++) {
             for (int lease = 1; lease < 6; lease++) {
-                LeaseNet x = Scene.selecting(C, 0);
+                Subject x = Scene.selecting(C, 0);
                 Scene.ticks(x, 2);
                 Scene.offered(1, C, 5, 1).bring(x, C);
                 Scene.ticks(x, late);
@@ -209,7 +209,7 @@ public final class ClientBoundsTest {
         }
         for (int state = 4; state < 7; state++) {
             for (int lease = 1; lease < 4; lease++) {
-                LeaseNet x = Scene.inState(state);
+                Subject x = Scene.inState(state);
                 int sent = x.count(0);
                 Scene.ticks(x, 2);
                 Check.same("nothing sent meanwhile", x.packets(), 0);
@@ -222,7 +222,7 @@ public final class ClientBoundsTest {
     private static void strangeInEachState() {
         for (int state = 2; state < 7; state++) {
             if (awaits(state)) {
-                LeaseNet x = Scene.inState(state);
+                Subject x = Scene.inState(state);
                 x.strange(301, true);
                 int last = xid(x);
                 boolean declines = state == REQUESTING || state == REBOOTING;
@@ -237,7 +237,7 @@ public final class ClientBoundsTest {
                 Check.same("packets", x.packets(), declines ? 1 : 0);
             }
         }
-        LeaseNet late = Scene.inState(REQUESTING);
+        Subject late = Scene.inState(REQUESTING);
         late.strange(301, true);
         late.tick();
         moved("an ACK that comes too late is not declined", late, Scene.acked(2, C, 301, 1), false);
@@ -249,7 +249,7 @@ public final class ClientBoundsTest {
         for (int a : addresses) {
             for (int y = a - 1; y <= a + 1; y++) {
                 if (y != 0) {
-                    LeaseNet x = Scene.inState(REQUESTING);
+                    Subject x = Scene.inState(REQUESTING);
                     x.strange(a, true);
                     Scene.acked(2, C, y, 80).bring(x, C);
                     Check.same(a + " is strange: ACK of " + y, x.client(C, 0), y == a ? WAITING : BOUND);
@@ -258,14 +258,14 @@ public final class ClientBoundsTest {
         }
         int[] beyond = {MIN, -1, 1024, 1025, 256 * 256 + 1, MAX};
         for (int y : beyond) {
-            LeaseNet x = Scene.inState(REQUESTING);
+            Subject x = Scene.inState(REQUESTING);
             for (int a : addresses) {
                 x.strange(a, true);
             }
             Scene.acked(2, C, y, 80).bring(x, C);
             Check.client("ACK of " + y, x, C, BOUND, y, 80, y);
         }
-        LeaseNet x = Scene.inState(REQUESTING);
+        Subject x = Scene.inState(REQUESTING);
         x.strange(301, true);
         x.strange(301, true);
         x.strange(301, false);
@@ -275,7 +275,7 @@ public final class ClientBoundsTest {
 
     private static void nakInEachState() {
         for (int state = 0; state < 8; state++) {
-            LeaseNet x = Scene.inState(state);
+            Subject x = Scene.inState(state);
             int last = xid(x);
             moved("NAK in " + state, x, Scene.naked(last, C), awaits(state));
             if (awaits(state)) {
@@ -289,7 +289,7 @@ public final class ClientBoundsTest {
         for (int state = 0; state < 8; state++) {
             for (int type = 0; type < 256; type++) {
                 if (type != 2 && type != 5 && type != 6) {
-                    LeaseNet x = Scene.inState(state);
+                    Subject x = Scene.inState(state);
                     Msg m = Msg.toClient(type, xid(x), C).yiaddr(301).lease(80).server(1).end();
                     int packets = x.packets();
                     m.bring(x, C);
@@ -297,7 +297,7 @@ public final class ClientBoundsTest {
                     Check.same("it sends nothing", x.packets(), packets);
                 }
             }
-            LeaseNet x = Scene.inState(state);
+            Subject x = Scene.inState(state);
             moved("no type in " + state, x, Msg.head(2, xid(x), C).yiaddr(301).lease(80).server(1).end(), false);
         }
     }
@@ -305,7 +305,7 @@ public final class ClientBoundsTest {
     /** "RENEWAL is SENT and lease / 2, REBINDING time SENT and lease - lease / 8"; a tick does one thing. */
     private static void timesOfALease() {
         for (int lease = 1; lease <= 50; lease++) {
-            LeaseNet x = Scene.selecting(C, 0);
+            Subject x = Scene.selecting(C, 0);
             Scene.ticks(x, 3);
             Scene.offered(1, C, 5, 1).bring(x, C);
             Scene.acked(2, C, 5, lease).bring(x, C);
@@ -326,7 +326,7 @@ public final class ClientBoundsTest {
     private static void timesOfTheLongestLease() {
         int[] leases = {10000, 10001, MAX};
         for (int lease : leases) {
-            LeaseNet x = Scene.bound(C, 0, 5, lease);
+            Subject x = Scene.bound(C, 0, 5, lease);
             Scene.ticks(x, 480);
             Check.client("lease " + lease, x, C, BOUND, 5, 10000, 5, 2, 1, 0);
             Check.same("it sends nothing", x.packets(), 0);
@@ -336,7 +336,7 @@ public final class ClientBoundsTest {
     /** "half of the time (from SENT to the rebinding time, or the end; upward, 2 at least) ago, or more" */
     private static void halfOfTheTimeUpward() {
         for (int lease = 8; lease <= 120; lease++) {
-            LeaseNet x = Scene.bound(C, 1, 300, lease);
+            Subject x = Scene.bound(C, 1, 300, lease);
             int rebinding = lease - lease / 8;
             int sent = lease / 2;
             Scene.ticks(x, sent);
@@ -360,7 +360,7 @@ public final class ClientBoundsTest {
 
     /** At 4, 12, 28, and then each 16 ticks. */
     private static void triesOfSelecting() {
-        LeaseNet x = Scene.selecting(C, 2);
+        Subject x = Scene.selecting(C, 2);
         int xid = 1;
         int turn = 1;
         for (int time = 1; time <= 80; time++) {
@@ -379,7 +379,7 @@ public final class ClientBoundsTest {
 
     /** At 4 and 12 again, and at 28 it begins. */
     private static void triesOfRequesting() {
-        LeaseNet x = Scene.requesting(C, 2, 600);
+        Subject x = Scene.requesting(C, 2, 600);
         for (int time = 1; time <= 32; time++) {
             x.tick();
             int turn = time < 4 ? 1 : time < 12 ? 2 : time < 28 ? 3 : time < 32 ? 1 : 2;
@@ -397,7 +397,7 @@ public final class ClientBoundsTest {
 
     /** At 4 and 12 again, and at 28 it is bound, which sends nothing. */
     private static void triesOfRebooting() {
-        LeaseNet x = Scene.bound(C, 0, 600, 100);
+        Subject x = Scene.bound(C, 0, 600, 100);
         x.off(C);
         x.join(C, 2);
         Scene.clear(x);
@@ -423,7 +423,7 @@ public final class ClientBoundsTest {
         int[] lasts = {4, 12, 28};
         for (int last : lasts) {
             for (int lease = last + 9; lease <= last + 11; lease++) {
-                LeaseNet x = Scene.bound(C, 0, 5, lease);
+                Subject x = Scene.bound(C, 0, 5, lease);
                 x.off(C);
                 Scene.ticks(x, 10);
                 x.join(C, 0);
@@ -443,13 +443,13 @@ public final class ClientBoundsTest {
                 }
             }
         }
-        LeaseNet one = Scene.bound(C, 0, 5, 1);
+        Subject one = Scene.bound(C, 0, 5, 1);
         one.tick();
         Check.packet("the end before the renewal", one, 0, 16, Scene.discover(3, C).end());
     }
 
     private static void boundAsBefore() {
-        LeaseNet x = Scene.bound(C, 0, 5, 40);
+        Subject x = Scene.bound(C, 0, 5, 40);
         Scene.ticks(x, 10);
         x.off(C);
         x.join(C, 0);
@@ -460,7 +460,7 @@ public final class ClientBoundsTest {
         Check.client("a tick does one thing", x, C, RENEWING, 5, 40, 5, 6, 3, 0);
         x.tick();
         Check.client("then the end", x, C, SELECTING, 0, 0, 0, 7, 1, 0);
-        LeaseNet y = Scene.bound(C, 0, 5, 48);
+        Subject y = Scene.bound(C, 0, 5, 48);
         Scene.ticks(y, 14);
         y.off(C);
         y.join(C, 0);
@@ -473,7 +473,7 @@ public final class ClientBoundsTest {
     }
 
     private static void waiting10Ticks() {
-        LeaseNet x = Scene.inState(REQUESTING);
+        Subject x = Scene.inState(REQUESTING);
         Scene.ticks(x, 3);
         x.strange(300, true);
         Scene.acked(2, C, 300, 40).bring(x, C);
@@ -489,12 +489,12 @@ public final class ClientBoundsTest {
     }
 
     private static void aTickOfOneThatIsOff() {
-        LeaseNet x = new LeaseNet();
+        Subject x = new Subject();
         Scene.ticks(x, 100);
         Check.client("never on", x, C, 0, 0, 0, 0, 0, 0, 0);
         Check.same("nothing is sent", x.packets(), 0);
         for (int state = 1; state < 8; state++) {
-            LeaseNet y = Scene.inState(state);
+            Subject y = Scene.inState(state);
             y.off(C);
             int address = y.client(C, 1);
             int end = y.client(C, 2);

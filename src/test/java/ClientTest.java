@@ -23,18 +23,18 @@ public final class ClientTest {
     }
 
     /** One packet is under way, and it is this one; it is dropped. */
-    private static void sends(String when, LeaseNet x, int place, Msg want) {
+    private static void sends(String when, Subject x, int place, Msg want) {
         Check.same(when + ": packets", x.packets(), 1);
         Check.packet(when, x, 0, place, want.end());
         Scene.clear(x);
     }
 
-    private static void quiet(String when, LeaseNet x) {
+    private static void quiet(String when, Subject x) {
         Check.same(when + ": packets", x.packets(), 0);
     }
 
     /** Ticks that bring nothing, and then one that does. */
-    private static void after(String when, LeaseNet x, int n, int place, Msg want) {
+    private static void after(String when, Subject x, int n, int place, Msg want) {
         Scene.ticks(x, n - 1);
         quiet(when + ", one tick before", x);
         x.tick();
@@ -42,14 +42,14 @@ public final class ClientTest {
     }
 
     private static void offer() {
-        LeaseNet x = Scene.selecting(3, 2);
+        Subject x = Scene.selecting(3, 2);
         Scene.ticks(x, 2);
         Scene.offered(1, 3, 600, 77).bring(x, 3);
         sends("request", x, 14, Scene.request(2, 3).wanted(600).server(77));
         Check.client("requesting", x, 3, 2, 0, 0, 0, 2, 1, 2);
         Scene.offered(2, 3, 601, 77).bring(x, 3);
         quiet("a second offer", x);
-        LeaseNet y = Scene.selecting(3, 0);
+        Subject y = Scene.selecting(3, 0);
         Scene.ticks(y, 4);
         Scene.clear(y);
         Check.client("try 2", y, 3, 1, 0, 0, 0, 2, 2, 0);
@@ -59,7 +59,7 @@ public final class ClientTest {
     }
 
     private static void offerIgnored() {
-        LeaseNet x = Scene.selecting(3, 0);
+        Subject x = Scene.selecting(3, 0);
         String before = Look.all(x);
         Scene.offered(1, 3, 0, 1).bring(x, 3);
         Scene.offered(1, 3, 5, 0).bring(x, 3);
@@ -74,10 +74,10 @@ public final class ClientTest {
         Scene.acked(1, 3, 5, 10).bring(x, 3);
         Scene.naked(1, 3).bring(x, 3);
         Check.same("nothing changed", Look.all(x).equals(before), true);
-        LeaseNet y = new LeaseNet();
+        Subject y = new Subject();
         Scene.offered(0, 3, 5, 1).bring(y, 3);
         Check.same("nor is one that is off moved", y.client(3, 0) + y.packets(), 0);
-        LeaseNet z = Scene.bound(3, 0, 5, 10);
+        Subject z = Scene.bound(3, 0, 5, 10);
         z.off(3);
         String then = Look.all(z);
         Scene.acked(2, 3, 6, 20).bring(z, 3);
@@ -87,7 +87,7 @@ public final class ClientTest {
     }
 
     private static void ack() {
-        LeaseNet x = Scene.selecting(3, 1);
+        Subject x = Scene.selecting(3, 1);
         Scene.ticks(x, 3);
         Scene.offered(1, 3, 300, 1).bring(x, 3);
         Scene.clear(x);
@@ -101,7 +101,7 @@ public final class ClientTest {
     }
 
     private static void ackIgnored() {
-        LeaseNet x = Scene.requesting(3, 0, 5);
+        Subject x = Scene.requesting(3, 0, 5);
         Scene.ticks(x, 2);
         String before = Look.all(x);
         Scene.acked(2, 3, 0, 40).bring(x, 3);
@@ -122,16 +122,16 @@ public final class ClientTest {
     }
 
     private static void ackTimes() {
-        LeaseNet x = Scene.bound(3, 0, 5, 10001);
+        Subject x = Scene.bound(3, 0, 5, 10001);
         Check.client("10000 of more", x, 3, 3, 5, 10000, 5);
-        LeaseNet y = Scene.bound(3, 0, -5, Integer.MAX_VALUE);
+        Subject y = Scene.bound(3, 0, -5, Integer.MAX_VALUE);
         Check.client("of very much more, to any address", y, 3, 3, -5, 10000, -5);
-        LeaseNet z = Scene.bound(3, 0, 5, 10000);
+        Subject z = Scene.bound(3, 0, 5, 10000);
         Check.client("10000", z, 3, 3, 5, 10000, 5);
     }
 
     private static void ackWhereNoneIsDue() {
-        LeaseNet x = Scene.requesting(3, 0, 5);
+        Subject x = Scene.requesting(3, 0, 5);
         x.strange(5, true);
         Scene.acked(2, 3, 5, 40).bring(x, 3);
         Scene.clear(x);
@@ -142,7 +142,7 @@ public final class ClientTest {
     }
 
     private static void nak() {
-        LeaseNet x = Scene.requesting(3, 1, 5);
+        Subject x = Scene.requesting(3, 1, 5);
         Scene.naked(1, 3).bring(x, 3);
         Scene.naked(3, 3).bring(x, 3);
         Scene.naked(2, 4).bring(x, 3);
@@ -151,14 +151,14 @@ public final class ClientTest {
         sends("requesting", x, 13, Scene.discover(3, 3));
         Check.client("requesting", x, 3, 1, 0, 0, 0, 3, 1, 1);
 
-        LeaseNet y = Scene.bound(3, 0, 5, 40);
+        Subject y = Scene.bound(3, 0, 5, 40);
         Scene.ticks(y, 20);
         Scene.clear(y);
         Scene.naked(3, 3).bring(y, 3);
         sends("renewing", y, 16, Scene.discover(4, 3));
         Check.client("renewing", y, 3, 1, 0, 0, 0, 4, 1, 0);
 
-        LeaseNet z = Scene.bound(3, 0, 5, 40);
+        Subject z = Scene.bound(3, 0, 5, 40);
         Scene.ticks(z, 35);
         Scene.clear(z);
         Check.same("rebinding", z.client(3, 0), 5);
@@ -167,7 +167,7 @@ public final class ClientTest {
     }
 
     private static void strange() {
-        LeaseNet x = Scene.requesting(3, 2, 600);
+        Subject x = Scene.requesting(3, 2, 600);
         x.strange(600, true);
         Scene.ticks(x, 2);
         Scene.acked(2, 3, 600, 40).bring(x, 3);
@@ -176,7 +176,7 @@ public final class ClientTest {
         after("begins", x, 10, 14, Scene.discover(4, 3));
         Check.client("selecting", x, 3, 1, 0, 0, 0, 4, 1, 2);
 
-        LeaseNet y = Scene.requesting(3, 0, 5);
+        Subject y = Scene.requesting(3, 0, 5);
         y.strange(5, true);
         y.strange(5, false);
         y.strange(1023, true);
@@ -195,20 +195,20 @@ public final class ClientTest {
         y.join(3, 0);
         sends("it has no address to come again with", y, 16, Scene.discover(5, 3));
 
-        LeaseNet z = Scene.requesting(3, 0, 5);
+        Subject z = Scene.requesting(3, 0, 5);
         z.strange(5, true);
         Scene.acked(2, 3, 5, 0).bring(z, 3);
         Check.same("an ACK that is none", z.client(3, 0), 2);
         Scene.acked(2, 3, 1023, 40).bring(z, 3);
         Check.same("only that one is strange", z.client(3, 0), 3);
-        LeaseNet far = Scene.requesting(3, 0, 5);
+        Subject far = Scene.requesting(3, 0, 5);
         far.strange(1023, true);
         Scene.acked(2, 3, 1023, 40).bring(far, 3);
         Check.same("the last address", far.client(3, 0), 7);
     }
 
     private static void strangeWhileRenewing() {
-        LeaseNet x = Scene.bound(3, 0, 5, 40);
+        Subject x = Scene.bound(3, 0, 5, 40);
         x.strange(5, true);
         Scene.ticks(x, 20);
         Scene.clear(x);
@@ -223,7 +223,7 @@ public final class ClientTest {
     }
 
     private static void selectingTries() {
-        LeaseNet x = Scene.selecting(3, 1);
+        Subject x = Scene.selecting(3, 1);
         after("try 2", x, 4, 13, Scene.discover(2, 3));
         Check.client("try 2", x, 3, 1, 0, 0, 0, 2, 2, 1);
         after("try 3", x, 8, 13, Scene.discover(3, 3));
@@ -239,7 +239,7 @@ public final class ClientTest {
     }
 
     private static void requestingTries() {
-        LeaseNet x = Scene.requesting(3, 0, 5);
+        Subject x = Scene.requesting(3, 0, 5);
         after("try 2", x, 4, 16, Scene.request(3, 3).wanted(5).server(77));
         Check.client("try 2", x, 3, 2, 0, 0, 0, 3, 2, 0);
         Scene.acked(2, 3, 5, 40).bring(x, 3);
@@ -251,7 +251,7 @@ public final class ClientTest {
     }
 
     private static void rebootingTries() {
-        LeaseNet x = Scene.bound(3, 0, 5, 100);
+        Subject x = Scene.bound(3, 0, 5, 100);
         Scene.ticks(x, 2);
         x.off(3);
         x.join(3, 2);
@@ -278,7 +278,7 @@ public final class ClientTest {
     }
 
     private static void rebootingEnds() {
-        LeaseNet x = Scene.bound(3, 0, 5, 10);
+        Subject x = Scene.bound(3, 0, 5, 10);
         Scene.ticks(x, 4);
         x.off(3);
         Scene.ticks(x, 5);
@@ -287,14 +287,14 @@ public final class ClientTest {
         x.tick();
         sends("the end", x, 16, Scene.discover(4, 3));
         Check.client("the end", x, 3, 1, 0, 0, 0, 4, 1, 0);
-        LeaseNet y = Scene.bound(3, 0, 5, 10);
+        Subject y = Scene.bound(3, 0, 5, 10);
         y.off(3);
         Scene.ticks(y, 10);
         y.join(3, 0);
         sends("at the end", y, 16, Scene.discover(3, 3));
         Check.client("at the end", y, 3, 1, 0, 0, 0, 3, 1, 0);
 
-        LeaseNet z = Scene.bound(3, 0, 5, 32);
+        Subject z = Scene.bound(3, 0, 5, 32);
         z.off(3);
         Scene.ticks(z, 3);
         z.join(3, 0);
@@ -306,7 +306,7 @@ public final class ClientTest {
     }
 
     private static void rebootingAnswered() {
-        LeaseNet x = Scene.bound(3, 0, 5, 100);
+        Subject x = Scene.bound(3, 0, 5, 100);
         x.off(3);
         x.join(3, 1);
         Scene.clear(x);
@@ -324,7 +324,7 @@ public final class ClientTest {
     }
 
     private static void renewing() {
-        LeaseNet x = Scene.bound(3, 1, 300, 80);
+        Subject x = Scene.bound(3, 1, 300, 80);
         after("renewal, to the server itself", x, 40, 16, Scene.request(3, 3).ciaddr(300));
         Check.client("renewing", x, 3, 4, 300, 80, 300, 3, 1, 1);
         // Rebinding time is 70: half of 30, of 15 upward, of 7 upward, of 3 upward, and not below 2.
@@ -335,7 +335,7 @@ public final class ClientTest {
         after("rebinding at 70", x, 1, 13, Scene.request(8, 3).ciaddr(300));
         Check.client("rebinding", x, 3, 5, 300, 80, 300, 8, 1, 1);
 
-        LeaseNet y = Scene.bound(3, 1, 300, 81);
+        Subject y = Scene.bound(3, 1, 300, 81);
         after("half of 81", y, 40, 16, Scene.request(3, 3).ciaddr(300));
         Scene.acked(3, 3, 301, 8).bring(y, 3);
         Check.client("renewed, with another address", y, 3, 3, 301, 48, 301, 3, 1, 1);
@@ -345,7 +345,7 @@ public final class ClientTest {
     }
 
     private static void rebinding() {
-        LeaseNet x = Scene.bound(3, 1, 300, 80);
+        Subject x = Scene.bound(3, 1, 300, 80);
         Scene.ticks(x, 70);
         Scene.clear(x);
         Check.client("rebinding", x, 3, 5, 300, 80, 300, 8, 1, 1);
@@ -355,7 +355,7 @@ public final class ClientTest {
         after("the end", x, 2, 13, Scene.discover(11, 3));
         Check.client("the end", x, 3, 1, 0, 0, 0, 11, 1, 1);
 
-        LeaseNet y = Scene.bound(3, 0, 5, 80);
+        Subject y = Scene.bound(3, 0, 5, 80);
         Scene.ticks(y, 75);
         Scene.clear(y);
         y.tick();
@@ -370,15 +370,15 @@ public final class ClientTest {
     }
 
     private static void shortLeases() {
-        LeaseNet x = Scene.bound(3, 0, 5, 1);
+        Subject x = Scene.bound(3, 0, 5, 1);
         after("lease 1", x, 1, 16, Scene.discover(3, 3));
-        LeaseNet y = Scene.bound(3, 0, 5, 2);
+        Subject y = Scene.bound(3, 0, 5, 2);
         after("lease 2 renews", y, 1, 16, Scene.request(3, 3).ciaddr(5));
         after("lease 2 ends", y, 1, 16, Scene.discover(4, 3));
-        LeaseNet z = Scene.bound(3, 0, 5, 3);
+        Subject z = Scene.bound(3, 0, 5, 3);
         after("lease 3 renews", z, 1, 16, Scene.request(3, 3).ciaddr(5));
         after("lease 3 ends", z, 2, 16, Scene.discover(4, 3));
-        LeaseNet w = Scene.bound(3, 0, 5, 8);
+        Subject w = Scene.bound(3, 0, 5, 8);
         after("lease 8 renews at 4", w, 4, 16, Scene.request(3, 3).ciaddr(5));
         after("again at 6", w, 2, 16, Scene.request(4, 3).ciaddr(5));
         after("rebinds at 7", w, 1, 16, Scene.request(5, 3).ciaddr(5));
@@ -387,7 +387,7 @@ public final class ClientTest {
     }
 
     private static void everyClientInTurn() {
-        LeaseNet x = new LeaseNet();
+        Subject x = new Subject();
         for (int c = 11; c >= 0; c--) {
             x.join(c, c % 4);
         }

@@ -22,14 +22,14 @@ public final class MessageBoundsTest {
         Check.end();
     }
 
-    private static LeaseNet typed(Msg m) {
-        LeaseNet x = new LeaseNet();
+    private static Subject typed(Msg m) {
+        Subject x = new Subject();
         m.typeOn(x);
         return x;
     }
 
     private static void isWhole(String what, Msg m, boolean isWhole) {
-        LeaseNet x = typed(m);
+        Subject x = typed(m);
         int told = -1;
         try {
             told = x.told(0);
@@ -96,7 +96,7 @@ public final class MessageBoundsTest {
             for (int length = 0; length < 6; length++) {
                 Msg m = Msg.toServer(1, 1, 1).wanted(2).lease(3).server(4).end().raw(code, length, 9, 9, 9, 9);
                 isWhole("code " + code + " of " + length + " behind the end", m, true);
-                LeaseNet x = typed(m);
+                Subject x = typed(m);
                 Check.same("its type", x.told(7), 1);
                 Check.same("its wanted", x.told(8), 2);
                 Check.same("its lease", x.told(9), 3);
@@ -181,7 +181,7 @@ public final class MessageBoundsTest {
         tells("mixed: wanted", mixed, 8, 3);
         tells("mixed: lease", mixed, 9, 5);
         tells("mixed: server", mixed, 10, 4);
-        LeaseNet x = new LeaseNet();
+        Subject x = new Subject();
         x.pool(0, 2, 9, 16);
         Msg.head(1, 1, 1).raw(53, 1, 3, 53, 1, 1).wanted(5).wanted(7).end().bring(x, 16);
         Check.record("for the server too", x, 7, 1, 1, 8);
@@ -240,7 +240,7 @@ public final class MessageBoundsTest {
         tells("without wanted", bare, 8, 0);
         tells("without lease", bare, 9, 0);
         tells("without server", bare, 10, 0);
-        LeaseNet x = new LeaseNet();
+        Subject x = new Subject();
         Msg.toServer(3, 1, 1).wanted(5).lease(6).server(7).end().typeOn(x);
         Check.same("all are told", x.told(7) + x.told(8) + x.told(9) + x.told(10), 21);
         x.inject(0);
@@ -254,16 +254,16 @@ public final class MessageBoundsTest {
     /** At each kind of place a whole message does something, and each way to break it does nothing. */
     private static void brokenOnesAreNotLookedAt() {
         for (int way = 0; way < 8; way++) {
-            LeaseNet server = new LeaseNet();
+            Subject server = new Subject();
             server.pool(0, 2, 9, 16);
             comes("server, way " + way, server, 16, Scene.discover(1, 3), way);
-            comes("relay, way " + way, new LeaseNet(), 14, Scene.discover(1, 3), way);
-            comes("relay back, way " + way, new LeaseNet(), 13, Msg.toClient(Msg.NAK, 1, 3), way);
+            comes("relay, way " + way, new Subject(), 14, Scene.discover(1, 3), way);
+            comes("relay back, way " + way, new Subject(), 13, Msg.toClient(Msg.NAK, 1, 3), way);
             comes("client, way " + way, Scene.requesting(3, 0, 5), 3, Msg.toClient(Msg.NAK, 2, 3), way);
         }
     }
 
-    private static void comes(String what, LeaseNet x, int place, Msg m, int way) {
+    private static void comes(String what, Subject x, int place, Msg m, int way) {
         String before = Look.all(x);
         broken(m, way).inject(x, place);
         Check.same(what + " is carried", x.carry(0), place);
@@ -305,7 +305,7 @@ public final class MessageBoundsTest {
     private static void madeOnesHaveAllElse0() {
         int[] numbers = {0x007F80FF, 0xFF807F00, 1, -1, 255, 256, Integer.MIN_VALUE, Integer.MAX_VALUE};
         for (int n : numbers) {
-            LeaseNet x = Scene.selecting(3, 0);
+            Subject x = Scene.selecting(3, 0);
             Msg.toClient(Msg.OFFER, 1, 3).hops(255).ciaddr(-1).yiaddr(n).giaddr(-1).wanted(-1).lease(-1).server(n)
                     .end().bring(x, 3);
             Check.packet("REQUEST of " + n, x, 0, 16, Scene.request(2, 3).wanted(n).server(n).end());
@@ -318,7 +318,7 @@ public final class MessageBoundsTest {
             x.leave(3);
             Check.packet("RELEASE of " + n, x, 0, 16, Msg.toServer(Msg.RELEASE, 4, 3).ciaddr(n).end());
         }
-        LeaseNet y = new LeaseNet();
+        Subject y = new Subject();
         y.pool(2, 2, 9, 0x1234);
         Scene.discover(-1, 3).hops(255).ciaddr(-1).yiaddr(-1).giaddr(0x2FF).wanted(-1).lease(-1).server(-1).end()
                 .bring(y, 16);

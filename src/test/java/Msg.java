@@ -80,7 +80,7 @@ final class Msg {
     }
 
     /** Eight bytes a call, so that a test stays within the calls that an object is used for. */
-    void typeOn(LeaseNet x) {
+    void typeOn(Subject x) {
         for (int at = 0; at < length(); at += 8) {
             int n = Math.min(8, length() - at);
             long w = 0;
@@ -94,15 +94,15 @@ final class Msg {
     }
 
     /** Typed and injected: the packet is the last of the row. */
-    void inject(LeaseNet x, int place) {
+    void inject(Subject x, int place) {
         typeOn(x);
         x.inject(place);
     }
 
     /** Injected and carried at once: its answers are the last of the row. */
-    void bring(LeaseNet x, int place) {
+    void bring(Subject x, int place) {
         inject(x, place);
-        x.carry(x.packets() - 1);
+        x.carry(new Look(x).packets() - 1);
     }
 
     private Msg setNumber(int at, int value) {

@@ -19,8 +19,8 @@ public final class NetTest {
         Check.end();
     }
 
-    private static LeaseNet three() {
-        LeaseNet x = new LeaseNet();
+    private static Subject three() {
+        Subject x = new Subject();
         x.pool(0, 2, 9, 16);
         x.join(0, 0);
         x.join(1, 1);
@@ -33,7 +33,7 @@ public final class NetTest {
     }
 
     private static void order() {
-        LeaseNet x = three();
+        Subject x = three();
         Check.same("three are under way", x.packets(), 3);
         Check.packet("first", x, 0, 16, discover(0));
         Check.packet("second", x, 1, 13, discover(1));
@@ -42,7 +42,7 @@ public final class NetTest {
     }
 
     private static void packetRefuses() {
-        LeaseNet x = three();
+        Subject x = three();
         int[] none = {-1, 3, 60, Integer.MIN_VALUE, Integer.MAX_VALUE};
         for (int k : none) {
             Check.fails("packet " + k, x, NoSuchElementException.class, () -> x.packet(k, 0));
@@ -59,7 +59,7 @@ public final class NetTest {
     }
 
     private static void carry() {
-        LeaseNet x = three();
+        Subject x = three();
         Check.same("carry tells the place", x.carry(1), 13);
         Check.same("what it makes is behind", x.packets(), 3);
         Check.packet("the first stays", x, 0, 16, discover(0));
@@ -73,7 +73,7 @@ public final class NetTest {
     }
 
     private static void twice() {
-        LeaseNet x = three();
+        Subject x = three();
         x.twice(0);
         Check.same("it stays", x.packets(), 4);
         Check.packet("it stays first", x, 0, 16, discover(0));
@@ -90,7 +90,7 @@ public final class NetTest {
     }
 
     private static void drop() {
-        LeaseNet x = three();
+        Subject x = three();
         x.drop(1);
         Check.same("dropped", x.packets(), 2);
         Check.packet("before it", x, 0, 16, discover(0));
@@ -104,7 +104,7 @@ public final class NetTest {
     }
 
     private static void run() {
-        LeaseNet x = three();
+        Subject x = three();
         int[] bad = {-1, 201, Integer.MIN_VALUE, Integer.MAX_VALUE};
         for (int n : bad) {
             Check.fails("run " + n, x, IllegalArgumentException.class, () -> x.run(n));
@@ -122,7 +122,7 @@ public final class NetTest {
     }
 
     private static void runStops() {
-        LeaseNet x = new LeaseNet();
+        Subject x = new Subject();
         x.pool(1, 2, 60, 16);
         for (int k = 0; k < 60; k++) {
             discover(k % 12).inject(x, 13);
@@ -134,7 +134,7 @@ public final class NetTest {
     }
 
     private static void lost() {
-        LeaseNet x = new LeaseNet();
+        Subject x = new Subject();
         x.pool(0, 2, 9, 16);
         for (int k = 0; k < 60; k++) {
             discover(k % 12).inject(x, 16);
@@ -161,7 +161,7 @@ public final class NetTest {
     }
 
     private static void relayToServer() {
-        LeaseNet x = new LeaseNet();
+        Subject x = new Subject();
         for (int s = 1; s < 4; s++) {
             Msg.toServer(Msg.DISCOVER, -2, 200).ciaddr(5).yiaddr(6).raw(99, 2, 1, 2).end().raw(7, 8).bring(x, 12 + s);
             Check.packet("relay " + s, x, s - 1, 16, Msg.toServer(Msg.DISCOVER, -2, 200).hops(1).ciaddr(5)
@@ -177,7 +177,7 @@ public final class NetTest {
     }
 
     private static void relayHops() {
-        LeaseNet x = new LeaseNet();
+        Subject x = new Subject();
         for (int hops = 0; hops < 4; hops++) {
             Msg.toServer(Msg.DISCOVER, 1, 0).hops(hops).end().bring(x, 13);
             Check.packet("hops " + hops, x, hops, 16,
@@ -191,7 +191,7 @@ public final class NetTest {
     }
 
     private static void relayToClient() {
-        LeaseNet x = new LeaseNet();
+        Subject x = new Subject();
         Msg to = Msg.toClient(Msg.NAK, 9, 11).hops(200).giaddr(0).raw(0, 0).end().raw(1);
         to.bring(x, 15);
         Check.packet("to the client, as it came", x, 0, 11, to);
@@ -201,7 +201,7 @@ public final class NetTest {
     }
 
     private static void strangePlaces() {
-        LeaseNet x = new LeaseNet();
+        Subject x = new Subject();
         x.pool(0, 2, 9, 16);
         Msg.toClient(Msg.DISCOVER, 1, 0).end().bring(x, 16);
         Check.same("the server does not look at op 2", x.count(2), 0);
@@ -213,7 +213,7 @@ public final class NetTest {
     }
 
     private static void count() {
-        LeaseNet x = three();
+        Subject x = three();
         int[] bad = {-1, 5, Integer.MIN_VALUE, Integer.MAX_VALUE};
         for (int w : bad) {
             Check.fails("count " + w, x, IndexOutOfBoundsException.class, () -> x.count(w));

@@ -5,9 +5,9 @@ import java.util.NoSuchElementException;
 /**
  * "A call that throws changes nothing; where several exceptions that a call names fit, it is the one
  * that it names first." Each call, with arguments on both sides of each bound and at the ends of an
- * int, in each situation: what is refused throws what is due, with a look at all that can be asked
- * before and behind it; and an object that has refused all of it goes on like its twin, which was
- * never asked. What is due is told here by the document's bounds alone.
+ * int, in each situation, on an object of its own: what is refused throws what is due, with a look at
+ * all that can be asked before and behind it; and an object that has refused many of them goes on like
+ * its twin, which was never asked. What is due is told here by the document's bounds alone.
  */
 public final class RefusedTest {
     private static final int MIN = Integer.MIN_VALUE;
@@ -19,10 +19,10 @@ public final class RefusedTest {
     private static final Class<IndexOutOfBoundsException> OUT = IndexOutOfBoundsException.class;
 
     private static final int[] CLIENTS = {MIN, -256, -1, 0, 3, 11, 12, 13, 255, 256, MAX};
-    private static final int[] SUBNETS = {MIN, -1, 0, 1, 3, 4, 255, MAX};
+    private static final int[] SUBNETS = {MIN, -1, 0, 1, 3, 4, MAX};
 
     private interface Call {
-        void on(LeaseNet x);
+        void on(Subject x);
     }
 
     /** A situation: the state of client 3, how many packets there are, and what stands on the tape. */
@@ -39,8 +39,8 @@ public final class RefusedTest {
             this.isBroken = isBroken;
         }
 
-        LeaseNet make() {
-            LeaseNet x = Scene.inState(state);
+        Subject make() {
+            Subject x = Scene.inState(state);
             x.pool(0, 2, 3, 16);
             x.pool(1, 40, 50, 30);
             x.strange(2, true);
@@ -60,21 +60,24 @@ public final class RefusedTest {
         }
     }
 
+    /** So many calls that change nothing are tried on one object before it goes on beside its twin. */
+    private static final int AT_ONCE = 120;
+    private static final int STEPS = 50;
+
     private final Situation situation;
     private final String before;
-    private final LeaseNet asked;
+    private final List<Call> unchanging = new ArrayList<>();
 
     private RefusedTest(Situation situation) {
         this.situation = situation;
-        asked = situation.make();
-        before = Look.all(asked);
+        before = Look.all(situation.make());
     }
 
     public static void main(String[] args) {
         for (Situation s : situations()) {
             RefusedTest test = new RefusedTest(s);
             test.everyCall();
-            test.goesOnLikeItsTwin();
+            test.goOnLikeTheirTwin();
         }
         Check.end();
     }
@@ -116,26 +119,22 @@ public final class RefusedTest {
 
     /** A refused call throws just what is due, and nothing that can be asked is another then. */
     private void due(String what, Class<?> kind, Call call) {
-        if (kind == null) {
-            taken(what, call);
-            return;
+        if (kind != null) {
+            asks(what, kind, call);
+        } else {
+            Check.same(situation.named() + what + " is not refused", thrownBy(call, situation.make()) == null, true);
         }
-        Check.same(situation.named() + what + " throws " + kind.getSimpleName(), thrownBy(call, asked) == kind, true);
-        Check.same(situation.named() + what + " changes nothing", Look.all(asked).equals(before), true);
-    }
-
-    /** One that is not refused is tried on an object of its own. */
-    private void taken(String what, Call call) {
-        Check.same(situation.named() + what + " is not refused", thrownBy(call, situation.make()) == null, true);
     }
 
     /** As due, for a call that only asks: then nothing is changed in any case. */
     private void asks(String what, Class<?> kind, Call call) {
-        Check.same(situation.named() + what, thrownBy(call, asked) == kind, true);
-        Check.same(situation.named() + what + " changes nothing", Look.all(asked).equals(before), true);
+        Subject x = situation.make();
+        Check.same(situation.named() + what, thrownBy(call, x) == kind, true);
+        Check.same(situation.named() + what + " changes nothing", Look.all(x).equals(before), true);
+        unchanging.add(call);
     }
 
-    private static Class<?> thrownBy(Call call, LeaseNet x) {
+    private static Class<?> thrownBy(Call call, Subject x) {
         try {
             call.on(x);
             return null;
@@ -153,8 +152,8 @@ public final class RefusedTest {
     }
 
     private void pool() {
-        int[] hosts = {MIN, 1, 2, 3, 250, 251, MAX};
-        int[] leases = {MIN, 0, 7, 8, 10000, 10001, MAX};
+        int[] hosts = {MIN, 1, 2, 3, 250, 251};
+        int[] leases = {MIN, 7, 8, 10000, 10001, MAX};
         for (int subnet : SUBNETS) {
             for (int low : hosts) {
                 for (int high : hosts) {
@@ -238,10 +237,10 @@ public final class RefusedTest {
         int[] numbers = {MIN, -8, -1, 0, 1, 2, 4, 5, 7, 8, 9, 60, 61, 256, MAX - 59, MAX};
         for (int n : numbers) {
             boolean fits = isIn(1, n, 8) && situation.tape.length() + n <= 60;
-            LeaseNet x = fits ? situation.make() : asked;
-            Check.same(situation.named() + "type(-1, " + n + ")", x.type(-1, n), fits);
-            Check.same(situation.named() + "type(-1, " + n + ") changes nothing",
-                    Look.all(asked).equals(before), true);
+            Check.same(situation.named() + "type(-1, " + n + ")", situation.make().type(-1, n), fits);
+            if (!fits) {
+                asks("type(-1, " + n + ")", null, x -> x.type(-1, n));
+            }
         }
     }
 
@@ -290,16 +289,30 @@ public final class RefusedTest {
     }
 
     /** What can't be asked (the tape, the pools, what is strange, the times) shows in what comes. */
-    private void goesOnLikeItsTwin() {
-        LeaseNet twin = situation.make();
-        for (int t = 0; t < 50; t++) {
-            oneStep(asked, t);
-            oneStep(twin, t);
-            Check.same(situation.named() + "as its twin at " + t, Look.all(asked).equals(Look.all(twin)), true);
+    private void goOnLikeTheirTwin() {
+        List<String> twin = comesOf(situation.make());
+        for (int at = 0; at < unchanging.size(); at += AT_ONCE) {
+            Subject x = situation.make();
+            for (int j = at; j < Math.min(at + AT_ONCE, unchanging.size()); j++) {
+                thrownBy(unchanging.get(j), x);
+            }
+            Check.same(situation.named() + "as its twin, from call " + at, comesOf(x).equals(twin), true);
         }
     }
 
-    private void oneStep(LeaseNet x, int t) {
+    /** How it looks in what comes. */
+    private List<String> comesOf(Subject x) {
+        List<String> looks = new ArrayList<>();
+        for (int t = 0; t < STEPS; t++) {
+            oneStep(x, t);
+            if (t < 3 || t == 14 || t == STEPS - 1) {
+                looks.add(Look.all(x));
+            }
+        }
+        return looks;
+    }
+
+    private void oneStep(Subject x, int t) {
         if (t == 0 && situation.tape.length() > 0) {
             x.inject(7);
         }
@@ -308,7 +321,7 @@ public final class RefusedTest {
             Scene.request(1, 5).ciaddr(296).end().bring(x, 16);
             x.down(false);
         }
-        if (t >= 2 && t < 14 && x.client(t - 2, 0) == 0) {
+        if (t >= 2 && t < 14 && new Look(x).client(t - 2, 0) == 0) {
             x.join(t - 2, t % 2);
         }
         if (t > 2) {

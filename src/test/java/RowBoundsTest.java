@@ -26,19 +26,19 @@ public final class RowBoundsTest {
         Check.end();
     }
 
-    private static LeaseNet withRow(int packets) {
-        LeaseNet x = new LeaseNet();
+    private static Subject withRow(int packets) {
+        Subject x = new Subject();
         Scene.fillRow(x, packets);
         return x;
     }
 
-    private static void row(String when, LeaseNet x, int packets, int lost) {
+    private static void row(String when, Subject x, int packets, int lost) {
         Check.same(when + ": packets", x.packets(), packets);
         Check.same(when + ": lost", x.count(1), lost);
     }
 
     private static void anEmptyRow() {
-        LeaseNet x = new LeaseNet();
+        Subject x = new Subject();
         row("new", x, 0, 0);
         Check.same("run(200) of none", x.run(200), 0);
         Check.same("run(0) of none", x.run(0), 0);
@@ -56,7 +56,7 @@ public final class RowBoundsTest {
     }
 
     private static void aFullRow() {
-        LeaseNet x = new LeaseNet();
+        Subject x = new Subject();
         for (int k = 0; k < FULL; k++) {
             row("before " + k, x, k, 0);
             x.type(k, 1);
@@ -84,23 +84,23 @@ public final class RowBoundsTest {
         for (int before = FULL - 1; before <= FULL; before++) {
             int lost = before - FULL + 1;
             String with = " with " + before + " before";
-            LeaseNet x = withRow(before);
+            Subject x = withRow(before);
             x.join(0, 0);
             row("DISCOVER" + with, x, FULL, lost);
-            LeaseNet leaving = Scene.inState(3);
+            Subject leaving = Scene.inState(3);
             Scene.fillRow(leaving, before);
             leaving.leave(Scene.CLIENT);
             row("RELEASE" + with, leaving, FULL, lost);
-            LeaseNet again = Scene.inState(3);
+            Subject again = Scene.inState(3);
             again.off(Scene.CLIENT);
             Scene.fillRow(again, before);
             again.join(Scene.CLIENT, 2);
             row("REQUEST, again," + with, again, FULL, lost);
-            LeaseNet ticking = Scene.inState(1);
+            Subject ticking = Scene.inState(1);
             Scene.fillRow(ticking, before);
             Scene.ticks(ticking, 4);
             row("a tick" + with, ticking, FULL, lost);
-            LeaseNet typing = withRow(before);
+            Subject typing = withRow(before);
             typing.type(1, 1);
             typing.inject(16);
             row("inject" + with, typing, FULL, lost);
@@ -110,31 +110,31 @@ public final class RowBoundsTest {
 
     /** A packet that comes twice stays, so its answer finds the row as it was. */
     private static void answers(int before, int lost, String with) {
-        LeaseNet server = new LeaseNet();
+        Subject server = new Subject();
         server.pool(0, 2, 9, 16);
         twiceFirst(server, Scene.discover(1, 0).end(), 16, before);
         row("OFFER" + with, server, FULL, lost);
         Check.record("it is offered all the same", server, 2, 1, 0, 8);
-        LeaseNet nak = new LeaseNet();
+        Subject nak = new Subject();
         nak.pool(0, 2, 9, 16);
         twiceFirst(nak, Scene.request(1, 0).server(1).end(), 16, before);
         row("NAK" + with, nak, FULL, lost);
-        LeaseNet relay = new LeaseNet();
+        Subject relay = new Subject();
         twiceFirst(relay, Scene.discover(1, 0).end(), 13, before);
         row("a relay" + with, relay, FULL, lost);
-        LeaseNet back = new LeaseNet();
+        Subject back = new Subject();
         twiceFirst(back, Msg.toClient(Msg.OFFER, 1, 0).end(), 15, before);
         row("a relay back" + with, back, FULL, lost);
-        LeaseNet client = Scene.inState(1);
+        Subject client = Scene.inState(1);
         twiceFirst(client, Scene.offered(1, Scene.CLIENT, 300, 1), Scene.CLIENT, before);
         row("REQUEST" + with, client, FULL, lost);
-        LeaseNet strange = Scene.inState(2);
+        Subject strange = Scene.inState(2);
         strange.strange(300, true);
         twiceFirst(strange, Scene.acked(2, Scene.CLIENT, 300, 40), Scene.CLIENT, before);
         row("DECLINE" + with, strange, FULL, lost);
     }
 
-    private static void twiceFirst(LeaseNet x, Msg m, int place, int packets) {
+    private static void twiceFirst(Subject x, Msg m, int place, int packets) {
         m.inject(x, place);
         Scene.fillRow(x, packets);
         x.twice(0);
@@ -142,7 +142,7 @@ public final class RowBoundsTest {
 
     /** Who sends does not know of it: its xid, its state and SENT are as if it went. */
     private static void aLostOneWasSent() {
-        LeaseNet x = withRow(FULL);
+        Subject x = withRow(FULL);
         x.tick();
         x.join(4, 2);
         Check.client("selecting", x, 4, 1, 0, 0, 0, 1, 1, 2);
@@ -151,12 +151,12 @@ public final class RowBoundsTest {
         Check.same("SENT was at 1", x.packets(), 0);
         x.tick();
         Check.packet("try 2", x, 0, 14, Scene.discover(2, 4).end());
-        LeaseNet y = Scene.inState(3);
+        Subject y = Scene.inState(3);
         Scene.fillRow(y, FULL);
         y.leave(Scene.CLIENT);
         Check.client("left", y, Scene.CLIENT, 0, 0, 0, 0, 3, 1, 1);
         row("left", y, FULL, 1);
-        LeaseNet z = Scene.inState(3);
+        Subject z = Scene.inState(3);
         Scene.fillRow(z, FULL);
         Scene.ticks(z, 20);
         Check.client("renewing", z, Scene.CLIENT, 4, 300, 40, 300, 3, 1, 1);
@@ -167,7 +167,7 @@ public final class RowBoundsTest {
     }
 
     private static void aCarriedOneMakesRoom() {
-        LeaseNet x = new LeaseNet();
+        Subject x = new Subject();
         x.pool(0, 2, 9, 16);
         Scene.discover(1, 0).end().inject(x, 16);
         Scene.fillRow(x, FULL);
@@ -179,7 +179,7 @@ public final class RowBoundsTest {
     }
 
     private static void twiceMakesNoRoom() {
-        LeaseNet x = new LeaseNet();
+        Subject x = new Subject();
         Scene.fillRow(x, 58);
         Scene.discover(1, 0).end().inject(x, 15);
         x.twice(58);
@@ -197,7 +197,7 @@ public final class RowBoundsTest {
 
     /** Clients in their order: the last ones find no room. */
     private static void ticksFillTheRow() {
-        LeaseNet x = new LeaseNet();
+        Subject x = new Subject();
         for (int c = 11; c >= 0; c--) {
             x.join(c, 0);
         }
@@ -216,7 +216,7 @@ public final class RowBoundsTest {
     private static void runOfAFullRow() {
         int[] numbers = {0, 1, 59, 60, 61, 199, 200};
         for (int n : numbers) {
-            LeaseNet x = withRow(FULL);
+            Subject x = withRow(FULL);
             Check.same("run(" + n + ") of 60", x.run(n), Math.min(n, FULL));
             row("run(" + n + ") of 60", x, Math.max(0, FULL - n), 0);
         }
@@ -225,7 +225,7 @@ public final class RowBoundsTest {
     private static void runOfFewerOrMore() {
         for (int size = 0; size < 4; size++) {
             for (int n = 0; n < 6; n++) {
-                LeaseNet x = withRow(size);
+                Subject x = withRow(size);
                 Check.same("run(" + n + ") of " + size, x.run(n), Math.min(n, size));
                 row("run(" + n + ") of " + size, x, Math.max(0, size - n), 0);
             }
@@ -235,14 +235,14 @@ public final class RowBoundsTest {
     /** A client on subnet 1 gets its address by eight packets: twice relay, server, relay, client. */
     private static void runCarriesWhatComesOfIt() {
         for (int n = 0; n < 10; n++) {
-            LeaseNet x = new LeaseNet();
+            Subject x = new Subject();
             x.pool(1, 2, 2, 16);
             x.join(0, 1);
             Check.same("run(" + n + ")", x.run(n), Math.min(n, 8));
             row("run(" + n + ")", x, n < 8 ? 1 : 0, 0);
             Check.same("state behind run(" + n + ")", x.client(0, 0), n < 4 ? 1 : n < 8 ? 2 : 3);
         }
-        LeaseNet y = new LeaseNet();
+        Subject y = new Subject();
         y.pool(1, 2, 60, 16);
         for (int k = 0; k < FULL; k++) {
             Scene.discover(1, k % 12).end().inject(y, 13);
@@ -254,7 +254,7 @@ public final class RowBoundsTest {
 
     private static void bytesOfAPacket() {
         int[] bytes = {0, 1, 127, 128, 254, 255};
-        LeaseNet x = new LeaseNet();
+        Subject x = new Subject();
         for (int b : bytes) {
             x.type(b, 1);
         }
@@ -285,7 +285,7 @@ public final class RowBoundsTest {
         for (int before = 50; before <= 60; before++) {
             for (int n = -1; n <= 10; n++) {
                 boolean fits = n >= 1 && n <= 8 && before + n <= 60;
-                LeaseNet x = new LeaseNet();
+                Subject x = new Subject();
                 new Msg().raw(new int[before]).typeOn(x);
                 Check.same("type of " + n + " behind " + before, x.type(-1, n), fits);
                 x.inject(0);
@@ -297,7 +297,7 @@ public final class RowBoundsTest {
             }
         }
         for (int n = 1; n <= 8; n++) {
-            LeaseNet x = new LeaseNet();
+            Subject x = new Subject();
             Check.same("type of " + n, x.type(0x00FF807F01FE8100L, n), true);
             x.inject(0);
             int[] want = {0x00, 0x81, 0xFE, 0x01, 0x7F, 0x80, 0xFF, 0x00};
@@ -310,7 +310,7 @@ public final class RowBoundsTest {
         int[] lows = {0, 255, 255, 0};
         int[] highs = {128, 127, 255, 0};
         for (int j = 0; j < ends.length; j++) {
-            LeaseNet x = new LeaseNet();
+            Subject x = new Subject();
             x.type(ends[j], 8);
             x.inject(0);
             Check.same("lowest of " + ends[j], x.packet(0, 0), lows[j]);
@@ -319,7 +319,7 @@ public final class RowBoundsTest {
     }
 
     private static void injectedIntoAFullRow() {
-        LeaseNet x = withRow(FULL);
+        Subject x = withRow(FULL);
         Scene.discover(1, 0).end().typeOn(x);
         x.inject(16);
         row("lost", x, FULL, 1);
@@ -336,7 +336,7 @@ public final class RowBoundsTest {
     private static void everyPlace() {
         for (int place = -2; place < 20; place++) {
             int to = place;
-            LeaseNet x = new LeaseNet();
+            Subject x = new Subject();
             x.type(1, 1);
             if (place >= 0 && place <= 16 && place != 12) {
                 x.inject(place);
@@ -351,7 +351,7 @@ public final class RowBoundsTest {
     /** "hops grows by 1 (from 4 on the message is not looked at)" */
     private static void hopsOfARelay() {
         for (int hops = 0; hops < 256; hops++) {
-            LeaseNet x = new LeaseNet();
+            Subject x = new Subject();
             Scene.discover(1, 0).hops(hops).end().bring(x, 13);
             Check.same("hops " + hops, x.packets(), hops < 4 ? 1 : 0);
             if (hops < 4) {
@@ -368,7 +368,7 @@ public final class RowBoundsTest {
 
     /** The first one's address stays, while hops grow. */
     private static void hopsOfSeveralRelays() {
-        LeaseNet x = new LeaseNet();
+        Subject x = new Subject();
         Msg m = Scene.discover(1, 0).end();
         for (int hops = 1; hops <= 4; hops++) {
             m.bring(x, 12 + (hops % 3 + 1));
@@ -383,7 +383,7 @@ public final class RowBoundsTest {
         int[] numbers = {0, 1, -1, 255, 256, 257, 1 << 24, Integer.MIN_VALUE, Integer.MAX_VALUE};
         for (int n : numbers) {
             for (int subnet = 1; subnet < 4; subnet++) {
-                LeaseNet x = new LeaseNet();
+                Subject x = new Subject();
                 Scene.discover(1, 0).giaddr(n).end().bring(x, 12 + subnet);
                 int want = n == 0 ? 256 * subnet + 1 : n;
                 Check.packet("giaddr " + n, x, 0, 16, Scene.discover(1, 0).hops(1).giaddr(want).end());
@@ -396,7 +396,7 @@ public final class RowBoundsTest {
 
     private static void chaddrOfARelay() {
         for (int chaddr = 0; chaddr < 256; chaddr++) {
-            LeaseNet x = new LeaseNet();
+            Subject x = new Subject();
             Msg back = Msg.toClient(Msg.OFFER, 1, chaddr).end();
             back.bring(x, 14);
             Check.same("chaddr " + chaddr, x.packets(), chaddr < 12 ? 1 : 0);

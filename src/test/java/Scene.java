@@ -10,15 +10,15 @@ final class Scene {
     private Scene() {
     }
 
-    static void ticks(LeaseNet x, int n) {
+    static void ticks(Subject x, int n) {
         for (int t = 0; t < n; t++) {
             x.tick();
         }
     }
 
     /** All packets are dropped: what is sent next is packet 0. */
-    static void clear(LeaseNet x) {
-        while (x.packets() > 0) {
+    static void clear(Subject x) {
+        for (int left = new Look(x).packets(); left > 0; left--) {
             x.drop(0);
         }
     }
@@ -43,31 +43,31 @@ final class Scene {
         return Msg.toClient(Msg.NAK, xid, client).end();
     }
 
-    static LeaseNet selecting(int client, int subnet) {
-        LeaseNet x = new LeaseNet();
+    static Subject selecting(int client, int subnet) {
+        Subject x = new Subject();
         x.join(client, subnet);
         clear(x);
         return x;
     }
 
-    static LeaseNet requesting(int client, int subnet, int address) {
-        LeaseNet x = selecting(client, subnet);
+    static Subject requesting(int client, int subnet, int address) {
+        Subject x = selecting(client, subnet);
         offered(1, client, address, OFFERER).bring(x, client);
         clear(x);
         return x;
     }
 
-    static LeaseNet bound(int client, int subnet, int address, int lease) {
-        LeaseNet x = requesting(client, subnet, address);
+    static Subject bound(int client, int subnet, int address, int lease) {
+        Subject x = requesting(client, subnet, address);
         acked(2, client, address, lease).bring(x, client);
         return x;
     }
 
     /** One client in this state, the others off; no packet is under way. */
-    static LeaseNet inState(int state) {
+    static Subject inState(int state) {
         switch (state) {
             case 0:
-                return new LeaseNet();
+                return new Subject();
             case 1:
                 return selecting(CLIENT, SUBNET);
             case 2:
@@ -86,23 +86,23 @@ final class Scene {
     }
 
     /** Renewing or rebinding, as the time tells. */
-    private static LeaseNet boundFor(int time) {
-        LeaseNet x = bound(CLIENT, SUBNET, ADDRESS, LEASE);
+    private static Subject boundFor(int time) {
+        Subject x = bound(CLIENT, SUBNET, ADDRESS, LEASE);
         ticks(x, time);
         clear(x);
         return x;
     }
 
-    private static LeaseNet rebooting() {
-        LeaseNet x = bound(CLIENT, SUBNET, ADDRESS, LEASE);
+    private static Subject rebooting() {
+        Subject x = bound(CLIENT, SUBNET, ADDRESS, LEASE);
         x.off(CLIENT);
         x.join(CLIENT, SUBNET);
         clear(x);
         return x;
     }
 
-    private static LeaseNet waiting() {
-        LeaseNet x = requesting(CLIENT, SUBNET, ADDRESS);
+    private static Subject waiting() {
+        Subject x = requesting(CLIENT, SUBNET, ADDRESS);
         x.strange(ADDRESS, true);
         acked(2, CLIENT, ADDRESS, LEASE).bring(x, CLIENT);
         x.strange(ADDRESS, false);
@@ -111,23 +111,22 @@ final class Scene {
     }
 
     /** So many packets of one byte, which nobody looks at, are under way. */
-    static void fillRow(LeaseNet x, int packets) {
-        while (x.packets() < packets) {
+    static void fillRow(Subject x, int packets) {
+        for (int k = new Look(x).packets(); k < packets; k++) {
             x.type(0, 1);
             x.inject(0);
         }
     }
 
     /** What the server has leased to this client, with no packet left of it. */
-    static void lease(LeaseNet x, int xid, int client, int address) {
-        int before = x.packets();
+    static void lease(Subject x, int xid, int client, int address) {
+        int before = new Look(x).packets();
         int relay = address >> 8 == 0 ? 0 : (address >> 8) * 256 + 1;
         discover(xid, client).giaddr(relay).wanted(address).end().bring(x, 16);
         request(xid, client).giaddr(relay).wanted(address).server(1).end().bring(x, 16);
-        Check.same("it is leased", x.record(address, 0), 2);
-        Check.same("to this client", x.record(address, 1), client);
-        while (x.packets() > before) {
-            x.drop(before);
-        }
+        Check.same("it is leased", new Look(x).record(address, 0), 2);
+        Check.same("to this client", new Look(x).record(address, 1), client);
+        x.drop(before);
+        x.drop(before);
     }
 }

@@ -45,8 +45,8 @@ public final class ServerBoundsTest {
         Check.end();
     }
 
-    private static LeaseNet withPool(int low, int high, int lease) {
-        LeaseNet x = new LeaseNet();
+    private static Subject withPool(int low, int high, int lease) {
+        Subject x = new Subject();
         x.pool(0, low, high, lease);
         return x;
     }
@@ -72,7 +72,7 @@ public final class ServerBoundsTest {
     }
 
     /** The message comes to the server, whose one answer is this one (null: none). */
-    private static void asks(String when, LeaseNet x, Msg asked, int place, Msg answer) {
+    private static void asks(String when, Subject x, Msg asked, int place, Msg answer) {
         int before = x.packets();
         asked.end().bring(x, 16);
         Check.same(when + ": answers", x.packets() - before, answer == null ? 0 : 1);
@@ -84,19 +84,19 @@ public final class ServerBoundsTest {
         }
     }
 
-    private static void silent(String when, LeaseNet x, Msg asked) {
+    private static void silent(String when, Subject x, Msg asked) {
         asks(when, x, asked, 0, null);
     }
 
     /** Nothing is answered, and nothing that can be asked is another then. */
-    private static void unmoved(String when, LeaseNet x, Msg asked) {
+    private static void unmoved(String when, Subject x, Msg asked) {
         String before = Look.all(x);
         asked.end().bring(x, 16);
         Check.same(when + " changes nothing", Look.all(x).equals(before), true);
     }
 
     private static void notLookedAtWhileDown() {
-        LeaseNet x = withPool(2, 9, 16);
+        Subject x = withPool(2, 9, 16);
         Scene.lease(x, 5, 0, 2);
         x.down(true);
         unmoved("DISCOVER", x, Scene.discover(6, 1));
@@ -116,8 +116,8 @@ public final class ServerBoundsTest {
     }
 
     /** A pool of each subnet, whose lease tells which it was. */
-    private static LeaseNet withFourPools() {
-        LeaseNet x = new LeaseNet();
+    private static Subject withFourPools() {
+        Subject x = new Subject();
         for (int s = 0; s < 4; s++) {
             x.pool(s, 10, 20, 100 + s);
         }
@@ -131,7 +131,7 @@ public final class ServerBoundsTest {
     private static void subnetOfGiaddr() {
         for (int n : NUMBERS) {
             int s = subnetOf(n);
-            LeaseNet x = withFourPools();
+            Subject x = withFourPools();
             Msg want = s < 0 ? null : offer(1, 3, 256 * s + 10, 100 + s).giaddr(n);
             asks("giaddr " + n, x, Scene.discover(1, 3).giaddr(n), s == 0 ? 3 : 12 + s, want);
             Check.same("giaddr " + n + ": records", x.count(2), s < 0 ? 0 : 1);
@@ -141,7 +141,7 @@ public final class ServerBoundsTest {
     private static void subnetOfCiaddr() {
         for (int n : NUMBERS) {
             int s = subnetOf(n);
-            LeaseNet x = withFourPools();
+            Subject x = withFourPools();
             Msg want = s < 0 ? null : offer(1, 3, 256 * s + 10, 100 + s);
             asks("ciaddr " + n, x, Scene.discover(1, 3).ciaddr(n), 3, want);
         }
@@ -162,7 +162,7 @@ public final class ServerBoundsTest {
 
     private static void noSuchClient() {
         for (int c = 0; c < 256; c++) {
-            LeaseNet x = withPool(2, 9, 16);
+            Subject x = withPool(2, 9, 16);
             asks("client " + c, x, Scene.discover(1, c), c, c < 12 ? offer(1, c, 2, 16) : null);
             Check.same("records of client " + c, x.count(2), c < 12 ? 1 : 0);
         }
@@ -171,7 +171,7 @@ public final class ServerBoundsTest {
     private static void noPoolOfIt() {
         for (int with = 0; with < 4; with++) {
             for (int s = 0; s < 4; s++) {
-                LeaseNet x = new LeaseNet();
+                Subject x = new Subject();
                 x.pool(with, 2, 2, 8);
                 int g = 256 * s + 1;
                 asks("pool of " + with + ", giaddr of " + s, x, Scene.discover(1, 3).giaddr(g), s == 0 ? 3 : 12 + s,
@@ -188,7 +188,7 @@ public final class ServerBoundsTest {
         int[] xids = {MIN, MIN + 1, -256, -129, -128, -2, -1, 0, 1, 127, 128, 255, 256, 65535, 1 << 24, MAX - 1, MAX};
         for (int last : xids) {
             for (int next : xids) {
-                LeaseNet x = withPool(2, 9, 16);
+                Subject x = withPool(2, 9, 16);
                 asks("any at first: " + last, x, Scene.discover(last, 3), 3, offer(last, 3, 2, 16));
                 asks(next + " behind " + last, x, Scene.discover(next, 3), 3,
                         next < last ? null : offer(next, 3, 2, 16));
@@ -199,7 +199,7 @@ public final class ServerBoundsTest {
         }
         for (int last : xids) {
             if (last != MIN) {
-                LeaseNet x = withPool(2, 9, 16);
+                Subject x = withPool(2, 9, 16);
                 Scene.lease(x, last, 3, 2);
                 unmoved("an old DISCOVER", x, Scene.discover(last - 1, 3));
                 unmoved("an old REQUEST", x, Scene.request(last - 1, 3).wanted(9).server(1));
@@ -213,7 +213,7 @@ public final class ServerBoundsTest {
 
     /** What is not looked at does not become the last one. */
     private static void xidsThatWereNotLookedAt() {
-        LeaseNet x = withPool(2, 9, 16);
+        Subject x = withPool(2, 9, 16);
         silent("op 2", x, Msg.toClient(Msg.DISCOVER, 50, 3));
         silent("no pool", x, Scene.discover(50, 3).giaddr(257));
         silent("no subnet", x, Scene.discover(50, 3).giaddr(1024));
@@ -238,14 +238,14 @@ public final class ServerBoundsTest {
 
     private static void xidsThatWereLookedAt() {
         for (int type = 0; type < 256; type++) {
-            LeaseNet x = withPool(2, 2, 16);
+            Subject x = withPool(2, 2, 16);
             Scene.lease(x, 1, 0, 2);
             Msg.toServer(type, 9, 3).end().bring(x, 16);
             Scene.clear(x);
             unmoved("less than that of type " + type, x, Scene.request(8, 3).wanted(7).server(1));
             asks("as great", x, Scene.request(9, 3).wanted(7).server(1), 3, nak(9, 3));
         }
-        LeaseNet x = withPool(2, 9, 16);
+        Subject x = withPool(2, 9, 16);
         Msg.head(1, 9, 3).end().bring(x, 16);
         unmoved("less than that of no type", x, Scene.discover(8, 3));
     }
@@ -254,7 +254,7 @@ public final class ServerBoundsTest {
         int[] giaddrs = {0, 1, 127, 128, 255, 256, 257, 511, 512, 767, 768, 1023};
         for (int g : giaddrs) {
             int place = g < 256 ? 5 : 12 + g / 256;
-            LeaseNet x = withFourPools();
+            Subject x = withFourPools();
             int first = 256 * (g / 256) + 10;
             int lease = 100 + g / 256;
             asks("OFFER, giaddr " + g, x, Scene.discover(1, 5).giaddr(g), place, offer(1, 5, first, lease).giaddr(g));
@@ -262,13 +262,13 @@ public final class ServerBoundsTest {
                     ack(1, 5, first, lease).giaddr(g));
             asks("NAK, giaddr " + g, x, Scene.request(1, 5).giaddr(g).server(1), place, nak(1, 5).giaddr(g));
         }
-        LeaseNet x = withFourPools();
+        Subject x = withFourPools();
         Scene.lease(x, 1, 5, 266);
         asks("ciaddr of subnet 1 alone", x, Scene.request(1, 5).ciaddr(266), 5, ack(1, 5, 266, 101));
     }
 
     private static void anOfferIsFreeAtItsTime() {
-        LeaseNet x = withPool(2, 2, 16);
+        Subject x = withPool(2, 2, 16);
         Scene.ticks(x, 3);
         asks("offered at 3", x, Scene.discover(1, 0), 0, offer(1, 0, 2, 16));
         Check.record("until 11", x, 2, OFFERED, 0, 11);
@@ -286,7 +286,7 @@ public final class ServerBoundsTest {
     }
 
     private static void aLeaseIsFreeAtItsTime() {
-        LeaseNet x = withPool(2, 2, 8);
+        Subject x = withPool(2, 2, 8);
         Scene.lease(x, 1, 0, 2);
         Check.record("until 8", x, 2, LEASED, 0, 8);
         Scene.ticks(x, 7);
@@ -300,7 +300,7 @@ public final class ServerBoundsTest {
     }
 
     private static void aDeclinedOneIsFreeAtItsTime() {
-        LeaseNet x = withPool(2, 2, 8);
+        Subject x = withPool(2, 2, 8);
         Scene.lease(x, 1, 0, 2);
         x.tick();
         silent("declined at 1", x, decline(1, 0, 2));
@@ -320,7 +320,7 @@ public final class ServerBoundsTest {
     }
 
     private static void aReleasedOneIsFreeAtOnce() {
-        LeaseNet x = withPool(2, 2, 8);
+        Subject x = withPool(2, 2, 8);
         Scene.lease(x, 1, 0, 2);
         Scene.ticks(x, 3);
         Check.same("not free", x.count(4), 0);
@@ -336,7 +336,7 @@ public final class ServerBoundsTest {
         int[][] pools = {{2, 2}, {2, 3}, {250, 250}, {249, 250}, {2, 250}, {127, 128}};
         for (int s = 0; s < 4; s++) {
             for (int[] p : pools) {
-                LeaseNet x = new LeaseNet();
+                Subject x = new Subject();
                 x.pool(s, p[0], p[1], 8);
                 Check.same("free", x.count(4), p[1] - p[0] + 1);
                 int g = 256 * s + 1;
@@ -361,13 +361,13 @@ public final class ServerBoundsTest {
     private static void wantedAtThePoolsBounds() {
         int[] numbers = {MIN, -1, 0, 1, 4, 5, 6, 7, 8, 9, 255, 256 + 5, 1023, 1024, MAX};
         for (int n : numbers) {
-            LeaseNet x = withPool(5, 8, 16);
+            Subject x = withPool(5, 8, 16);
             int want = n >= 5 && n <= 8 ? n : 5;
             asks("wanted " + n, x, Scene.discover(1, 3).wanted(n), 3, offer(1, 3, want, 16));
             Check.record("wanted " + n, x, want, OFFERED, 3, 8);
             Check.same("one record", x.count(2), 1);
         }
-        LeaseNet far = new LeaseNet();
+        Subject far = new Subject();
         far.pool(3, 5, 8, 16);
         int[] hosts = {4, 5, 8, 9};
         for (int h : hosts) {
@@ -377,7 +377,7 @@ public final class ServerBoundsTest {
     }
 
     private static void leastWithARecordOfThisClient() {
-        LeaseNet x = withPool(6, 6, 16);
+        Subject x = withPool(6, 6, 16);
         asks("6", x, Scene.discover(1, 3), 3, offer(1, 3, 6, 16));
         x.pool(0, 4, 5, 16);
         asks("4", x, Scene.discover(1, 3), 3, offer(1, 3, 4, 16));
@@ -391,12 +391,12 @@ public final class ServerBoundsTest {
         asks("4, the first of the pool", x, Scene.discover(1, 3).wanted(9), 3, offer(1, 3, 4, 16));
         x.pool(0, 7, 9, 16);
         asks("none of them", x, Scene.discover(1, 3).wanted(9), 3, offer(1, 3, 9, 16));
-        LeaseNet y = withPool(2, 3, 16);
+        Subject y = withPool(2, 3, 16);
         Scene.lease(y, 1, 0, 3);
         Scene.ticks(y, 30);
         asks("its own, over for long, before one without record", y, Scene.discover(2, 0), 0, offer(2, 0, 3, 16));
         Check.record("offered", y, 3, OFFERED, 0, 38);
-        LeaseNet z = withPool(2, 3, 16);
+        Subject z = withPool(2, 3, 16);
         Scene.lease(z, 1, 0, 3);
         silent("released at 0", z, release(1, 0, 3));
         Check.record("a record of time 0", z, 3, LEASED, 0, 0);
@@ -404,7 +404,7 @@ public final class ServerBoundsTest {
     }
 
     private static void leastWithoutARecord() {
-        LeaseNet x = withPool(2, 4, 16);
+        Subject x = withPool(2, 4, 16);
         asks("2 is wanted", x, Scene.discover(1, 0).wanted(2), 0, offer(1, 0, 2, 16));
         Scene.ticks(x, 8);
         Check.same("all are free", x.count(4), 3);
@@ -416,7 +416,7 @@ public final class ServerBoundsTest {
 
     /** A time of 0 is no less than having no record. */
     private static void leastWithoutARecordAtTheEnd() {
-        LeaseNet x = withPool(2, 3, 16);
+        Subject x = withPool(2, 3, 16);
         Scene.lease(x, 1, 0, 2);
         silent("released at 0", x, release(1, 0, 2));
         asks("3, the last, for it has none", x, Scene.discover(1, 1), 1, offer(1, 1, 3, 16));
@@ -424,7 +424,7 @@ public final class ServerBoundsTest {
     }
 
     private static void leastTime() {
-        LeaseNet x = withPool(2, 4, 16);
+        Subject x = withPool(2, 4, 16);
         asks("4 until 8", x, Scene.discover(1, 0).wanted(4), 0, offer(1, 0, 4, 16));
         x.tick();
         asks("2 until 9", x, Scene.discover(1, 1).wanted(2), 1, offer(1, 1, 2, 16));
@@ -438,13 +438,13 @@ public final class ServerBoundsTest {
     }
 
     /** The offer is made, and stays when it is asked for again. */
-    private static void offersTwice(String when, LeaseNet x, int client, int address) {
+    private static void offersTwice(String when, Subject x, int client, int address) {
         asks(when, x, Scene.discover(1, client), client, offer(1, client, address, 16));
         asks(when + " again", x, Scene.discover(1, client), client, offer(1, client, address, 16));
     }
 
     private static void aFullPool() {
-        LeaseNet x = withPool(2, 12, 16);
+        Subject x = withPool(2, 12, 16);
         for (int c = 0; c < 11; c++) {
             Check.same("free before " + c, x.count(4), 11 - c);
             Check.same("records before " + c, x.count(2), c);
@@ -469,18 +469,18 @@ public final class ServerBoundsTest {
 
     private static void leasedUntilLaterThanNow() {
         for (int time = 7; time <= 9; time++) {
-            LeaseNet x = withPool(2, 2, 8);
+            Subject x = withPool(2, 2, 8);
             Scene.lease(x, 1, 0, 2);
             Scene.ticks(x, time);
             asks("at " + time, x, Scene.discover(2, 0), 0, offer(2, 0, 2, 8));
             Check.record("at " + time, x, 2, time < 8 ? LEASED : OFFERED, 0, time < 8 ? 8 : time + 8);
         }
-        LeaseNet y = withPool(2, 2, 8);
+        Subject y = withPool(2, 2, 8);
         asks("offered", y, Scene.discover(1, 0), 0, offer(1, 0, 2, 8));
         Scene.ticks(y, 7);
         asks("offered anew before its time", y, Scene.discover(2, 0), 0, offer(2, 0, 2, 8));
         Check.record("offered anew before its time", y, 2, OFFERED, 0, 15);
-        LeaseNet z = withPool(2, 2, 8);
+        Subject z = withPool(2, 2, 8);
         Scene.lease(z, 1, 0, 2);
         silent("released", z, release(1, 0, 2));
         asks("then offered", z, Scene.discover(2, 0), 0, offer(2, 0, 2, 8));
@@ -489,13 +489,13 @@ public final class ServerBoundsTest {
 
     private static void requestUntilLaterThanNow() {
         for (int time = 6; time <= 9; time++) {
-            LeaseNet x = withPool(2, 2, 20);
+            Subject x = withPool(2, 2, 20);
             asks("offered", x, Scene.discover(1, 0), 0, offer(1, 0, 2, 20));
             Scene.ticks(x, time);
             asks("an offer at " + time, x, Scene.request(2, 0).wanted(2).server(1), 0,
                     time < 8 ? ack(2, 0, 2, 20) : nak(2, 0));
             Check.record("an offer at " + time, x, 2, time < 8 ? LEASED : OFFERED, 0, time < 8 ? time + 20 : 8);
-            LeaseNet y = withPool(2, 2, 8);
+            Subject y = withPool(2, 2, 8);
             Scene.lease(y, 1, 0, 2);
             Scene.ticks(y, time);
             asks("a lease at " + time, y, Scene.request(2, 0).wanted(2).server(1), 0,
@@ -509,7 +509,7 @@ public final class ServerBoundsTest {
         int[][] pools = {{2, 4}, {5, 5}, {2, 5}, {5, 9}, {6, 9}, {2, 250}};
         for (int[] p : pools) {
             boolean isIn = p[0] <= 5 && 5 <= p[1];
-            LeaseNet x = withPool(5, 5, 16);
+            Subject x = withPool(5, 5, 16);
             Scene.lease(x, 1, 0, 5);
             x.tick();
             x.pool(0, p[0], p[1], 16);
@@ -522,7 +522,7 @@ public final class ServerBoundsTest {
         }
         int[] numbers = {MIN, -1, 0, 1, 4, 6, 255, 256 + 5, 1023, 1024, MAX};
         for (int n : numbers) {
-            LeaseNet x = withPool(5, 5, 16);
+            Subject x = withPool(5, 5, 16);
             Scene.lease(x, 1, 0, 5);
             asks("wanted " + n, x, Scene.request(2, 0).wanted(n).server(1), 0, nak(2, 0));
             Check.record("wanted " + n, x, 5, LEASED, 0, 16);
@@ -533,7 +533,7 @@ public final class ServerBoundsTest {
     private static void asLongAsItWasLeased() {
         for (int time = 29; time <= 31; time++) {
             for (int way = 0; way < 3; way++) {
-                LeaseNet x = withPool(2, 2, 50);
+                Subject x = withPool(2, 2, 50);
                 Scene.lease(x, 1, 0, 2);
                 x.pool(0, 2, 2, 20);
                 Scene.ticks(x, time);
@@ -543,7 +543,7 @@ public final class ServerBoundsTest {
                 Check.record("asked at " + time, x, 2, LEASED, 0, Math.max(50, time + 20));
             }
         }
-        LeaseNet x = withPool(2, 2, 10000);
+        Subject x = withPool(2, 2, 10000);
         Scene.lease(x, 1, 0, 2);
         Check.record("the longest", x, 2, LEASED, 0, 10000);
         x.tick();
@@ -554,7 +554,7 @@ public final class ServerBoundsTest {
     private static void anotherServer() {
         int[] servers = {MIN, -1, 0, 1, 2, 127, 128, 255, 256, 257, 513, 769, 1 << 24, MAX};
         for (int s : servers) {
-            LeaseNet x = withPool(2, 2, 16);
+            Subject x = withPool(2, 2, 16);
             asks("offered", x, Scene.discover(1, 0), 0, offer(1, 0, 2, 16));
             boolean isOther = s != 0 && s != 1;
             asks("server " + s, x, Scene.request(2, 0).wanted(2).server(s), 0, isOther ? null : ack(2, 0, 2, 16));
@@ -565,7 +565,7 @@ public final class ServerBoundsTest {
     }
 
     private static void anotherServerAndTheLeast() {
-        LeaseNet none = withPool(2, 4, 16);
+        Subject none = withPool(2, 4, 16);
         unmoved("none of this client", none, Scene.request(1, 0).wanted(2).server(2));
         Scene.lease(none, 1, 1, 2);
         unmoved("one of another", none, Scene.request(1, 0).wanted(2).server(2));
@@ -573,13 +573,13 @@ public final class ServerBoundsTest {
         int[][] pools = {{2, 4}, {5, 5}, {2, 5}, {5, 9}, {6, 9}};
         for (int[] p : pools) {
             boolean isIn = p[0] <= 5 && 5 <= p[1];
-            LeaseNet x = withPool(5, 5, 16);
+            Subject x = withPool(5, 5, 16);
             asks("offered", x, Scene.discover(1, 0), 0, offer(1, 0, 5, 16));
             x.pool(0, p[0], p[1], 16);
             silent("another server", x, Scene.request(1, 0).server(2));
             Check.same(p[0] + " .. " + p[1], x.count(2), isIn ? 0 : 1);
         }
-        LeaseNet two = withPool(6, 6, 16);
+        Subject two = withPool(6, 6, 16);
         asks("6", two, Scene.discover(1, 0), 0, offer(1, 0, 6, 16));
         two.pool(0, 4, 4, 16);
         asks("4", two, Scene.discover(1, 0), 0, offer(1, 0, 4, 16));
@@ -588,7 +588,7 @@ public final class ServerBoundsTest {
         Check.record("4 is gone", two, 4, 0, -1, 0);
         Check.record("6 is not", two, 6, OFFERED, 0, 8);
         for (int time = 7; time <= 9; time++) {
-            LeaseNet x = withPool(2, 4, 16);
+            Subject x = withPool(2, 4, 16);
             asks("offered", x, Scene.discover(1, 0), 0, offer(1, 0, 2, 16));
             Scene.ticks(x, time);
             silent("before, at and behind its time", x, Scene.request(1, 0).server(2));
@@ -598,7 +598,7 @@ public final class ServerBoundsTest {
 
     private static void withoutAServer() {
         for (int time = 7; time <= 9; time++) {
-            LeaseNet x = withPool(2, 5, 8);
+            Subject x = withPool(2, 5, 8);
             Scene.lease(x, 1, 0, 2);
             Scene.lease(x, 1, 1, 3);
             asks("offered", x, Scene.discover(1, 2), 2, offer(1, 2, 4, 8));
@@ -618,13 +618,13 @@ public final class ServerBoundsTest {
     private static void withoutAServerCiaddrOrWanted() {
         int[] numbers = {MIN, -1, 1, 2, 3, 4, 5, 6, 255, 1023, 1024, MAX};
         for (int n : numbers) {
-            LeaseNet x = withPool(2, 5, 8);
+            Subject x = withPool(2, 5, 8);
             Scene.lease(x, 1, 0, 2);
             Scene.lease(x, 1, 1, 3);
             Msg want = n == 2 ? ack(2, 0, 2, 8) : n == 4 || n == 5 ? null : nak(2, 0);
             asks("wanted " + n, x, Scene.request(2, 0).wanted(n), 0, want);
             asks("wanted " + n + " and ciaddr 2", x, Scene.request(2, 0).wanted(n).ciaddr(2), 0, ack(2, 0, 2, 8));
-            LeaseNet y = withPool(2, 5, 8);
+            Subject y = withPool(2, 5, 8);
             Scene.lease(y, 1, 0, 2);
             Scene.lease(y, 1, 1, 3);
             Msg by = n == 2 ? ack(2, 0, 2, 8).giaddr(9) : n == 4 || n == 5 ? null : nak(2, 0).giaddr(9);
@@ -636,18 +636,18 @@ public final class ServerBoundsTest {
     private static void declineOfAnyNumber() {
         int[] numbers = {MIN, -1, 0, 1, 2, 255, 256, 1023, 1024, MAX};
         for (int n : numbers) {
-            LeaseNet x = withPool(5, 9, 16);
+            Subject x = withPool(5, 9, 16);
             Scene.lease(x, 1, 0, 5);
             unmoved("DECLINE of " + n, x, decline(1, 0, n));
             unmoved("DECLINE of " + n + ", giaddr 9", x, decline(1, 0, n).giaddr(9));
         }
-        LeaseNet x = withPool(5, 9, 16);
+        Subject x = withPool(5, 9, 16);
         Scene.lease(x, 1, 0, 5);
         unmoved("DECLINE of none", x, Msg.toServer(Msg.DECLINE, 1, 0));
         unmoved("DECLINE of another's", x, decline(1, 1, 5));
         unmoved("DECLINE by ciaddr", x, Msg.toServer(Msg.DECLINE, 1, 0).ciaddr(5));
         for (int time = 15; time <= 17; time++) {
-            LeaseNet y = withPool(5, 5, 16);
+            Subject y = withPool(5, 5, 16);
             Scene.lease(y, 1, 0, 5);
             Scene.ticks(y, time);
             silent("DECLINE at " + time, y, decline(1, 0, 5));
@@ -656,7 +656,7 @@ public final class ServerBoundsTest {
         }
         int[][] edges = {{0, 2}, {0, 250}, {3, 2}, {3, 250}};
         for (int[] e : edges) {
-            LeaseNet y = new LeaseNet();
+            Subject y = new Subject();
             y.pool(e[0], e[1], e[1], 16);
             y.pool(1, 9, 9, 16);
             Scene.lease(y, 1, 0, 256 * e[0] + e[1]);
@@ -668,12 +668,12 @@ public final class ServerBoundsTest {
     private static void releaseOfAnyNumber() {
         int[] numbers = {MIN, -1, 0, 1, 2, 255, 256, 1023, 1024, MAX};
         for (int n : numbers) {
-            LeaseNet x = withPool(5, 9, 16);
+            Subject x = withPool(5, 9, 16);
             Scene.lease(x, 1, 0, 5);
             unmoved("RELEASE of " + n, x, release(1, 0, n));
             unmoved("RELEASE of " + n + ", giaddr 9", x, release(1, 0, n).giaddr(9));
         }
-        LeaseNet x = withPool(5, 9, 16);
+        Subject x = withPool(5, 9, 16);
         Scene.lease(x, 1, 0, 5);
         asks("offered", x, Scene.discover(1, 1), 1, offer(1, 1, 6, 16));
         x.tick();
@@ -681,13 +681,13 @@ public final class ServerBoundsTest {
         unmoved("RELEASE of another's", x, release(1, 1, 5));
         unmoved("RELEASE by wanted", x, Msg.toServer(Msg.RELEASE, 1, 0).wanted(5));
         for (int time = 15; time <= 17; time++) {
-            LeaseNet y = withPool(5, 5, 16);
+            Subject y = withPool(5, 5, 16);
             Scene.lease(y, 1, 0, 5);
             Scene.ticks(y, time);
             silent("RELEASE at " + time, y, release(1, 0, 5));
             Check.record("RELEASE at " + time, y, 5, LEASED, 0, time);
         }
-        LeaseNet z = withPool(5, 5, 16);
+        Subject z = withPool(5, 5, 16);
         Scene.lease(z, 1, 0, 5);
         Scene.ticks(z, 3);
         z.pool(0, 6, 9, 16);
@@ -702,13 +702,13 @@ public final class ServerBoundsTest {
     private static void othersNothing() {
         for (int type = 0; type < 256; type++) {
             if (type != 1 && type != 3 && type != 4 && type != 7) {
-                LeaseNet x = withPool(2, 5, 16);
+                Subject x = withPool(2, 5, 16);
                 Scene.lease(x, 1, 0, 2);
                 unmoved("type " + type, x, Msg.toServer(type, 1, 0).ciaddr(2).wanted(2).server(1));
                 unmoved("type " + type + " alone", x, Msg.toServer(type, 1, 0));
             }
         }
-        LeaseNet x = withPool(2, 5, 16);
+        Subject x = withPool(2, 5, 16);
         Scene.lease(x, 1, 0, 2);
         unmoved("no type", x, Msg.head(1, 1, 0).ciaddr(2).wanted(2).server(1));
     }

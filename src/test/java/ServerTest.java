@@ -22,8 +22,8 @@ public final class ServerTest {
         Check.end();
     }
 
-    private static LeaseNet withPool(int low, int high, int lease) {
-        LeaseNet x = new LeaseNet();
+    private static Subject withPool(int low, int high, int lease) {
+        Subject x = new Subject();
         x.pool(0, low, high, lease);
         return x;
     }
@@ -41,7 +41,7 @@ public final class ServerTest {
     }
 
     /** The message comes to the server, whose one answer is this one (null: none). */
-    private static void asks(String when, LeaseNet x, Msg asked, int place, Msg answer) {
+    private static void asks(String when, Subject x, Msg asked, int place, Msg answer) {
         int before = x.packets();
         asked.end().bring(x, 16);
         Check.same(when + ": answers", x.packets() - before, answer == null ? 0 : 1);
@@ -51,12 +51,12 @@ public final class ServerTest {
         }
     }
 
-    private static void silent(String when, LeaseNet x, Msg asked) {
+    private static void silent(String when, Subject x, Msg asked) {
         asks(when, x, asked, 0, null);
     }
 
     private static void subnets() {
-        LeaseNet x = new LeaseNet();
+        Subject x = new Subject();
         for (int s = 0; s < 4; s++) {
             x.pool(s, 10 * s + 2, 10 * s + 9, 20 + s);
         }
@@ -80,7 +80,7 @@ public final class ServerTest {
     }
 
     private static void notLookedAt() {
-        LeaseNet x = withPool(2, 9, 16);
+        Subject x = withPool(2, 9, 16);
         silent("no client 12", x, Scene.discover(1, 12));
         silent("no client 255", x, Scene.discover(1, 255));
         silent("no pool", x, Scene.discover(7, 0).giaddr(257));
@@ -92,7 +92,7 @@ public final class ServerTest {
     }
 
     private static void xids() {
-        LeaseNet x = withPool(2, 9, 16);
+        Subject x = withPool(2, 9, 16);
         asks("any at first", x, Scene.discover(Integer.MIN_VALUE, 0), 0, offer(Integer.MIN_VALUE, 0, 2, 16));
         asks("-1", x, Scene.discover(-1, 0), 0, offer(-1, 0, 2, 16));
         asks("the same again", x, Scene.discover(-1, 0), 0, offer(-1, 0, 2, 16));
@@ -113,7 +113,7 @@ public final class ServerTest {
     }
 
     private static void discoverOwn() {
-        LeaseNet x = withPool(2, 4, 16);
+        Subject x = withPool(2, 4, 16);
         asks("the least", x, Scene.discover(1, 7), 7, offer(1, 7, 2, 16));
         Check.record("offered", x, 2, 1, 7, 8);
         Scene.ticks(x, 3);
@@ -132,7 +132,7 @@ public final class ServerTest {
     }
 
     private static void discoverWanted() {
-        LeaseNet x = withPool(5, 8, 16);
+        Subject x = withPool(5, 8, 16);
         asks("wanted", x, Scene.discover(1, 0).wanted(7), 0, offer(1, 0, 7, 16));
         asks("not free", x, Scene.discover(1, 1).wanted(7), 1, offer(1, 1, 5, 16));
         asks("below the pool", x, Scene.discover(1, 2).wanted(4), 2, offer(1, 2, 6, 16));
@@ -151,7 +151,7 @@ public final class ServerTest {
     }
 
     private static void discoverOldest() {
-        LeaseNet x = withPool(2, 5, 16);
+        Subject x = withPool(2, 5, 16);
         asks("4 at 0", x, Scene.discover(1, 0).wanted(4), 0, offer(1, 0, 4, 16));
         x.tick();
         asks("3 at 1", x, Scene.discover(1, 1).wanted(3), 1, offer(1, 1, 3, 16));
@@ -173,7 +173,7 @@ public final class ServerTest {
     }
 
     private static void discoverLast() {
-        LeaseNet x = withPool(2, 3, 16);
+        Subject x = withPool(2, 3, 16);
         Scene.lease(x, 1, 0, 2);
         silent("released at time 0", x, Msg.toServer(Msg.RELEASE, 1, 0).ciaddr(2));
         Check.record("released at time 0", x, 2, 2, 0, 0);
@@ -186,7 +186,7 @@ public final class ServerTest {
     }
 
     private static void discoverLeased() {
-        LeaseNet x = withPool(2, 3, 16);
+        Subject x = withPool(2, 3, 16);
         Scene.lease(x, 1, 0, 2);
         Scene.ticks(x, 15);
         asks("leased still", x, Scene.discover(2, 0), 0, offer(2, 0, 2, 16));
@@ -197,7 +197,7 @@ public final class ServerTest {
     }
 
     private static void requestOfOffer() {
-        LeaseNet x = withPool(2, 4, 16);
+        Subject x = withPool(2, 4, 16);
         asks("offer", x, Scene.discover(1, 0), 0, offer(1, 0, 2, 16));
         asks("offer to 1", x, Scene.discover(1, 1), 1, offer(1, 1, 3, 16));
         Scene.ticks(x, 5);
@@ -224,7 +224,7 @@ public final class ServerTest {
     }
 
     private static void requestKeepsLonger() {
-        LeaseNet x = withPool(2, 4, 100);
+        Subject x = withPool(2, 4, 100);
         Scene.lease(x, 1, 0, 2);
         x.pool(0, 2, 4, 8);
         asks("a shorter lease", x, Scene.request(2, 0).wanted(2).server(1), 0, ack(2, 0, 2, 8));
@@ -238,7 +238,7 @@ public final class ServerTest {
     }
 
     private static void requestOfOther() {
-        LeaseNet x = withPool(2, 4, 16);
+        Subject x = withPool(2, 4, 16);
         asks("offer", x, Scene.discover(1, 0), 0, offer(1, 0, 2, 16));
         asks("offer to 1", x, Scene.discover(1, 1), 1, offer(1, 1, 3, 16));
         silent("another server", x, Scene.request(2, 0).wanted(3).server(2));
@@ -263,7 +263,7 @@ public final class ServerTest {
     }
 
     private static void requestWithoutServer() {
-        LeaseNet x = withPool(2, 5, 16);
+        Subject x = withPool(2, 5, 16);
         Scene.lease(x, 1, 0, 2);
         Scene.lease(x, 1, 1, 3);
         Scene.ticks(x, 4);
@@ -290,7 +290,7 @@ public final class ServerTest {
 
     /** What is made has nothing left of what was made before it. */
     private static void exchange() {
-        LeaseNet x = new LeaseNet();
+        Subject x = new Subject();
         x.pool(1, 10, 11, 40);
         x.join(3, 1);
         x.run(2);
@@ -318,7 +318,7 @@ public final class ServerTest {
     }
 
     private static void requestExpired() {
-        LeaseNet x = withPool(2, 5, 16);
+        Subject x = withPool(2, 5, 16);
         Scene.lease(x, 1, 0, 2);
         Scene.lease(x, 1, 1, 3);
         asks("offer", x, Scene.discover(1, 2), 2, offer(1, 2, 4, 16));
@@ -332,7 +332,7 @@ public final class ServerTest {
     }
 
     private static void decline() {
-        LeaseNet x = withPool(2, 5, 16);
+        Subject x = withPool(2, 5, 16);
         Scene.lease(x, 1, 0, 2);
         asks("offer", x, Scene.discover(1, 1), 1, offer(1, 1, 3, 16));
         x.tick();
@@ -361,7 +361,7 @@ public final class ServerTest {
     }
 
     private static void release() {
-        LeaseNet x = withPool(2, 5, 16);
+        Subject x = withPool(2, 5, 16);
         Scene.lease(x, 1, 0, 2);
         asks("offer", x, Scene.discover(1, 1), 1, offer(1, 1, 3, 16));
         Scene.ticks(x, 3);
@@ -383,7 +383,7 @@ public final class ServerTest {
     }
 
     private static void otherTypes() {
-        LeaseNet x = withPool(2, 5, 16);
+        Subject x = withPool(2, 5, 16);
         Scene.lease(x, 1, 0, 2);
         String before = Look.all(x);
         int[] others = {0, 2, 5, 6, 8, 128, 255};
@@ -395,7 +395,7 @@ public final class ServerTest {
     }
 
     private static void recordRefuses() {
-        LeaseNet x = withPool(2, 5, 16);
+        Subject x = withPool(2, 5, 16);
         int[] bad = {0, -1, 1024, Integer.MIN_VALUE, Integer.MAX_VALUE};
         for (int a : bad) {
             Check.fails("record " + a, x, IndexOutOfBoundsException.class, () -> x.record(a, 0));

@@ -13,7 +13,7 @@ public final class TapeTest {
     }
 
     private static void type() {
-        LeaseNet x = new LeaseNet();
+        Subject x = new Subject();
         Check.same("eight", x.type(0x8877665544332211L, 8), true);
         Check.same("three of more", x.type(-1L << 24 | 0xCCBBAAL, 3), true);
         Check.same("one", x.type(0x1FFL, 1), true);
@@ -23,7 +23,7 @@ public final class TapeTest {
     }
 
     private static void typeRefuses() {
-        LeaseNet x = new LeaseNet();
+        Subject x = new Subject();
         int[] bad = {0, -1, 9, 60, Integer.MIN_VALUE, Integer.MAX_VALUE};
         for (int n : bad) {
             Check.same("type of " + n, x.type(1, n), false);
@@ -43,7 +43,7 @@ public final class TapeTest {
     }
 
     private static void sees(String what, Msg m, int... want) {
-        LeaseNet x = new LeaseNet();
+        Subject x = new Subject();
         m.typeOn(x);
         for (int w = 0; w < 11; w++) {
             Check.same(what + ": told(" + w + ")", x.told(w), want[w]);
@@ -76,7 +76,7 @@ public final class TapeTest {
     }
 
     private static void isBroken(String what, Msg m) {
-        LeaseNet x = new LeaseNet();
+        Subject x = new Subject();
         m.typeOn(x);
         Check.fails(what, x, IllegalArgumentException.class, () -> x.told(0));
         x.pool(0, 2, 9, 16);
@@ -112,7 +112,7 @@ public final class TapeTest {
     }
 
     private static void toldRefuses() {
-        LeaseNet x = new LeaseNet();
+        Subject x = new Subject();
         int[] bad = {-1, 11, Integer.MIN_VALUE, Integer.MAX_VALUE};
         for (int w : bad) {
             Check.fails("told " + w + " of an empty tape", x, IndexOutOfBoundsException.class, () -> x.told(w));
@@ -126,7 +126,7 @@ public final class TapeTest {
     }
 
     private static void inject() {
-        LeaseNet x = new LeaseNet();
+        Subject x = new Subject();
         int k = 0;
         for (int place = 0; place <= 16; place++) {
             if (place != 12) {
@@ -140,7 +140,7 @@ public final class TapeTest {
     }
 
     private static void injectRefuses() {
-        LeaseNet x = new LeaseNet();
+        Subject x = new Subject();
         Check.fails("an empty tape", x, IllegalArgumentException.class, () -> x.inject(16));
         Msg.head(1, 7, 1).end().typeOn(x);
         int[] bad = {-1, 12, 17, Integer.MIN_VALUE, Integer.MAX_VALUE};
