@@ -79,6 +79,14 @@ public final class ClientBoundsTest {
             Check.packet("again at " + time, x, 0, 14,
                     has ? Scene.request(3, C).wanted(5).end() : Scene.discover(3, C).end());
         }
+        int[] addresses = {MIN, -1, 1, 255, 1024, MAX};
+        for (int a : addresses) {
+            Subject x = Scene.bound(C, 0, a, 10);
+            x.off(C);
+            x.join(C, 0);
+            Check.client("again with " + a, x, C, REBOOTING, a, 10, 0, 3, 1, 0);
+            Check.packet("again with " + a, x, 0, 16, Scene.request(3, C).wanted(a).end());
+        }
         Subject x = Scene.inState(WAITING);
         x.off(C);
         x.join(C, 0);

@@ -12,6 +12,7 @@ public final class MessageBoundsTest {
         aByte0IsNothing();
         everyCodeWithEveryLength();
         aLengthBeyondTheTape();
+        cutOffByAFullTape();
         ofSeveralTheLastOne();
         aWrongLengthOfSeveral();
         hopsChaddrAndTypeAreBytes();
@@ -154,6 +155,28 @@ public final class MessageBoundsTest {
             isWhole("cut off", Msg.head(1, 1, 1).raw(code, 1), false);
             isWhole("the end as its byte", Msg.head(1, 1, 1).raw(code, 1, 255), false);
             isWhole("and the end", Msg.head(1, 1, 1).raw(code, 1, 255, 255), true);
+        }
+    }
+
+    /** Of an option so many bytes are there, the last ones of a tape that takes no more. */
+    private static void cutOffByAFullTape() {
+        int[] codes = {1, 50, 51, 52, 53, 54, 254};
+        for (int code : codes) {
+            int length = code == 53 ? 1 : 4;
+            for (int there = 1; there <= length + 2; there++) {
+                Msg m = Msg.head(1, 1, 1).raw(new int[ROOM - HEAD - there]).raw(code);
+                for (int i = 1; i < there; i++) {
+                    m.raw(i == 1 ? length : 7);
+                }
+                Check.same("it is full", m.length(), ROOM);
+                isWhole(there + " bytes of code " + code, m, false);
+                Subject x = new Subject();
+                m.inject(x, 13);
+                Check.same("it is carried", x.carry(0), 13);
+                Check.same("but not looked at", x.packets(), 0);
+            }
+            Msg m = Msg.head(1, 1, 1).raw(new int[ROOM - HEAD - length - 3]).raw(code, length).raw(new int[length]);
+            isWhole("code " + code + " and the end as the last byte", m.end(), true);
         }
     }
 
