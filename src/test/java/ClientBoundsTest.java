@@ -30,9 +30,12 @@ public final class ClientBoundsTest {
         timesOfALease();
         timesOfTheLongestLease();
         halfOfTheTimeUpward();
+        halfOfALongTime();
         triesOfSelecting();
         triesOfRequesting();
         triesOfRebooting();
+        itsTryOnlyWhereItIsNamed();
+        itsTryWhileItWaits();
         theEndComesFirst();
         boundAsBefore();
         waiting10Ticks();
@@ -366,6 +369,28 @@ public final class ClientBoundsTest {
         }
     }
 
+    /** Longer ones, at some times: 400 is renewed at 200, 275, 313, 332, 341, 346, 348, and to all at 350. */
+    private static void halfOfALongTime() {
+        int[] leases = {399, 400, 401, 407, 408};
+        for (int lease : leases) {
+            Subject x = Scene.bound(C, 0, 5, lease);
+            int rebinding = lease - lease / 8;
+            int sent = lease / 2;
+            int xid = 3;
+            Scene.ticks(x, sent);
+            for (int time = sent + 1; time < lease; time++) {
+                x.tick();
+                int left = (time >= rebinding ? lease : rebinding) - sent;
+                if (time == rebinding || time - sent >= 2 && 2 * (time - sent) >= left) {
+                    sent = time;
+                    xid++;
+                }
+                Check.client("lease " + lease + " at " + time, x, C, time < rebinding ? RENEWING : REBINDING, 5, lease,
+                        5, xid);
+            }
+        }
+    }
+
     /** At 4, 12, 28, and then each 16 ticks. */
     private static void triesOfSelecting() {
         Subject x = Scene.selecting(C, 2);
@@ -424,6 +449,55 @@ public final class ClientBoundsTest {
         }
         x.tick();
         Check.client("its renewal as before", x, C, RENEWING, 600, 100, 600, 6, 3, 2);
+    }
+
+    /** It is 1 where a sentence says so, and else the last one that it had. */
+    private static void itsTryOnlyWhereItIsNamed() {
+        Subject x = Scene.selecting(C, 0);
+        Scene.ticks(x, 4);
+        Check.client("selecting", x, C, SELECTING, 0, 0, 0, 2, 2);
+        Scene.offered(2, C, 5, 1).bring(x, C);
+        Check.client("an offer", x, C, REQUESTING, 0, 0, 0, 3, 1);
+        Scene.ticks(x, 4);
+        Check.client("requesting", x, C, REQUESTING, 0, 0, 0, 4, 2);
+        Scene.acked(4, C, 5, 40).bring(x, C);
+        Check.client("bound", x, C, BOUND, 5, 48, 5, 4, 2);
+        x.off(C);
+        Check.client("off", x, C, 0, 5, 48, 0, 4, 2);
+        x.join(C, 0);
+        Check.client("again", x, C, REBOOTING, 5, 48, 0, 5, 1);
+        Scene.ticks(x, 12);
+        Check.client("rebooting", x, C, REBOOTING, 5, 48, 0, 7, 3);
+        Scene.acked(7, C, 5, 8).bring(x, C);
+        Check.client("bound again", x, C, BOUND, 5, 28, 5, 7, 3);
+        Scene.ticks(x, 4);
+        Check.client("renewing", x, C, RENEWING, 5, 28, 5, 8, 3);
+        Scene.ticks(x, 3);
+        Check.client("rebinding", x, C, REBINDING, 5, 28, 5, 10, 3);
+        x.off(C);
+        x.join(C, 0);
+        Check.client("again from try 3", x, C, REBOOTING, 5, 28, 0, 11, 1);
+        x.tick();
+        Check.client("the end", x, C, SELECTING, 0, 0, 0, 12, 1);
+        Scene.ticks(x, 12);
+        x.leave(C);
+        Check.client("left", x, C, 0, 0, 0, 0, 14, 3);
+        x.join(C, 0);
+        Check.client("it begins", x, C, SELECTING, 0, 0, 0, 15, 1);
+    }
+
+    /** One that waits keeps the try in which it was told of the address. */
+    private static void itsTryWhileItWaits() {
+        int[] times = {0, 4, 12};
+        for (int j = 0; j < times.length; j++) {
+            Subject x = Scene.requesting(C, 1, 300);
+            x.strange(300, true);
+            Scene.ticks(x, times[j]);
+            Scene.acked(2 + j, C, 300, 40).bring(x, C);
+            Check.client("waiting from try " + (j + 1), x, C, WAITING, 0, 0, 0, 3 + j, j + 1);
+            Scene.ticks(x, 10);
+            Check.client("then it begins", x, C, SELECTING, 0, 0, 0, 4 + j, 1);
+        }
     }
 
     /** In 3, 4, 5, 6 the end is the first of what fits, though a try or a renewal would fit too. */
